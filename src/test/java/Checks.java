@@ -1,0 +1,116 @@
+/** Counts what a test finds wrong, and knows how to put a query on the tape. */
+final class Checks {
+    private final String name;
+    private int done;
+    private int wrong;
+
+    Checks(String name) {
+        this.name = name;
+    }
+
+    void due(String call, long got, long want) {
+        done++;
+        if (got != want) {
+            wrong++;
+            System.out.println(name + ": " + call + " answered " + got + ", due is " + want);
+        }
+    }
+
+    void holds(String what, boolean right) {
+        due(what, right ? 1 : 0, 1);
+    }
+
+    /** Ends the program with 1 if anything was wrong. */
+    void end() {
+        System.out.println(name + ": " + done + " answers, " + wrong + " not as due");
+        if (wrong != 0 || done == 0) {
+            System.exit(1);
+        }
+    }
+
+    static int feed(ColumnHouse x, String text) {
+        int[] words = new int[5];
+        for (int i = 0; i < text.length() && i < 20; i++) {
+            words[i / 4] |= text.charAt(i) << (24 - 8 * (i % 4));
+        }
+        return x.feed(words[0], words[1], words[2], words[3], words[4]);
+    }
+
+    static int ask(ColumnHouse x, String query) {
+        for (int i = 0; i < query.length(); i += 20) {
+            feed(x, query.substring(i, Math.min(query.length(), i + 20)));
+        }
+        return x.ask(query.length());
+    }
+
+    /** A query that is to end with a FAULT, at a place and a row. */
+    void fault(ColumnHouse x, String query, int fault, int place, int row) {
+        due(query, ask(x, query), -fault);
+        due(query + " fault(0)", x.fault(0), fault);
+        due(query + " fault(1)", x.fault(1), place);
+        due(query + " fault(2)", x.fault(2), row);
+    }
+
+    /** A query that is to end with a FAULT where a part of it stands first, at a row. */
+    void faultAt(ColumnHouse x, String query, int fault, String part, int row) {
+        fault(x, query, fault, query.indexOf(part), row);
+    }
+
+    /** A query that is to end well with so many rows. */
+    void fine(ColumnHouse x, String query, int rows) {
+        due(query, ask(x, query), rows);
+        due(query + " fault(0)", x.fault(0), 0);
+        due(query + " fault(1)", x.fault(1), -1);
+        due(query + " fault(2)", x.fault(2), -1);
+    }
+
+    /** The cells of a column of the RESULT. */
+    void cells(ColumnHouse x, String what, int column, long... want) {
+        due(what + ": rows", x.size(6, 0), want.length);
+        for (int r = 0; r < want.length; r++) {
+            due(what + ": cell(6, " + column + ", " + r + ")", x.cell(6, column, r), want[r]);
+        }
+    }
+
+    /** A column more of a table, with what is put into it. */
+    static int column(ColumnHouse x, int table, int kind, long... values) {
+        int column = x.column(table, kind);
+        for (int r = 0; r < values.length; r++) {
+            x.put(table, column, r, values[r]);
+        }
+        return column;
+    }
+
+    /** Leaves so much of CREDIT; table 5 is used for it, and the RESULT. */
+    static void spendTo(ColumnHouse x, int left) {
+        int dear = 60 * 4 * 8;
+        x.table(5, 60);
+        for (int c = 0; c < 8; c++) {
+            x.column(5, 8);
+        }
+        while (x.credit() - left >= dear) {
+            int sorts = Math.min(41, (x.credit() - left) / dear - 1);
+            ask(x, "from t5" + " sort a".repeat(sorts));
+        }
+        while (x.credit() > left) {
+            x.table(5, Math.min(60, x.credit() - left));
+            x.column(5, 0);
+        }
+    }
+
+    static long text(String s) {
+        long v = 0;
+        for (int i = 0; i < s.length(); i++) {
+            v = (v << 8) | s.charAt(i);
+        }
+        return v;
+    }
+
+    static long real(double d) {
+        return Double.doubleToLongBits(d);
+    }
+
+    static long single(float f) {
+        return Float.floatToIntBits(f);
+    }
+}
