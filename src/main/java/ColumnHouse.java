@@ -699,19 +699,6 @@ public final class ColumnHouse {
             return x < 0 ? SIGN_BIT - x : x;
         }
 
-        /** The greater or the lesser one, -0 being less than 0. */
-        static long extreme(int op, long x, long y) {
-            if ((x & Long.MAX_VALUE) > INFINITY || (y & Long.MAX_VALUE) > INFINITY) {
-                return NAN;
-            }
-            long a = x < 0 ? SIGN_BIT - x : x;
-            long b = y < 0 ? SIGN_BIT - y : y;
-            if (a == b) {
-                return op == MAX ? x & y : x | y;
-            }
-            return (a > b) == (op == MAX) ? x : y;
-        }
-
         /** Digits by 2 to the scale, cut towards 0 to a LONG. */
         static long cut(boolean negative, long digits, int scale) {
             if (scale > 10) {
@@ -954,6 +941,22 @@ public final class ColumnHouse {
             boolean nan = Reals.isNan(v);
             long cut = nan ? 0 : Reals.cut(v < 0, Reals.digits(v), Reals.scale(v));
             return to == LONG ? cut : lowestBits(clamped(cut), to);
+        }
+
+        /** The greater or the lesser one of two of a kind, -0 being less than 0. */
+        static long extreme(int op, long x, long y, int kind) {
+            if (!isFloating(kind)) {
+                return op == MAX ? Math.max(x, y) : Math.min(x, y);
+            }
+            if (Reals.isNan(x) || Reals.isNan(y)) {
+                return Reals.NAN;
+            }
+            long a = Reals.orderKey(x);
+            long b = Reals.orderKey(y);
+            if (a == b) {
+                return op == MAX ? x & y : x | y;
+            }
+            return (a > b) == (op == MAX) ? x : y;
         }
 
         /** What a box of a sort holds, of what box() tells. */
@@ -1382,7 +1385,8 @@ public final class ColumnHouse {
             code[i] = BAD;
             if (behind > letters) {
                 int digit = byteAt(letters) - '0';
-                if (first == 't' && letters == from + 1 && behind == letters + 1 && digit < TABLES) {
+                boolean isPair = letters == from + 1 && behind == letters + 1;
+                if (isPair && first == 't' && digit < TABLES) {
                     code[i] = TABLE;
                     arg[i] = digit;
                 }
@@ -1902,7 +1906,7 @@ public final class ColumnHouse {
             return out;
         }
 
-        /** What an operator gives (those of fewer operands have x for the others); null with a FAULT. */
+        /** What an operator gives; null with a FAULT. One of fewer operands has x for the others. */
         Column work(int op, Column x, Column y, Column z, int rows) {
             this.rows = rows;
             if (!ledger.pay(rows * price(op, x, y))) {
@@ -2212,16 +2216,9 @@ public final class ColumnHouse {
             }
             Column out = new Column(kind, rows);
             for (int r = 0; r < rows; r++) {
-                out.v[r] = extreme(op, a[r], b[r], kind);
+                out.v[r] = Column.extreme(op, a[r], b[r], kind);
             }
             return out;
-        }
-
-        static long extreme(int op, long x, long y, int kind) {
-            if (kind > LONG) {
-                return Reals.extreme(op, x, y);
-            }
-            return op == MAX ? Math.max(x, y) : Math.min(x, y);
         }
 
         private Column shaped(int op, Column x) {
@@ -2322,12 +2319,12 @@ public final class ColumnHouse {
             if (!isThere(x)) {
                 return null;
             }
-            if (Column.isBoxed(x.kind)) {
-                return x.twin();
-            }
-            Column out = new Column(NUMBERS, rows);
+            boolean boxed = Column.isBoxed(x.kind);
+            Column out = new Column(boxed ? x.kind : NUMBERS, rows);
             for (int r = 0; r < rows; r++) {
-                if (isIndex(x.kind)) {
+                if (boxed) {
+                    out.set(r, x, r);
+                } else if (isIndex(x.kind)) {
                     out.setBox(r, OF_WHOLE, x.v[r]);
                 } else {
                     out.setBox(r, OF_REAL, Column.converted(x.v[r], x.kind, REAL));
@@ -2594,7 +2591,7 @@ public final class ColumnHouse {
                 case ANY:
                     return sofar | v;
                 default:
-                    return Operators.extreme(word, sofar, v, kind);
+                    return Column.extreme(word, sofar, v, kind);
             }
         }
     }

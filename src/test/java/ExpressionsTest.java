@@ -366,6 +366,11 @@ public final class ExpressionsTest {
         x.away(0, 0, true);
         gives(x, "a + 1", 3);
         gives(x, "prior(a)", 3);
+        x.column(0, 8);
+        x.away(0, 1, true);
+        gives(x, "box(b)", 8);
+        gives(x, "if(1=1, b, b)", 8);
+        gives(x, "b", 24);
     }
 
     private static void orderOfFaults() {
