@@ -1994,6 +1994,11 @@ public final class ColumnHouse {
             return null;
         }
 
+        /** Fails if the operands' kinds are wrong. */
+        private boolean mismatch(boolean wrong) {
+            return wrong && !ledger.fail(OTHER_KIND, NONE);
+        }
+
         /** An operand that is AWAY is missed at its first row. */
         private boolean isThere(Column c) {
             return !c.away || rows == 0 || ledger.fail(MISSED, 0);
@@ -2097,10 +2102,7 @@ public final class ColumnHouse {
         }
 
         private Column likened(int op, Column x, Column y) {
-            if (!Keys.canBeLike(x.kind, y.kind)) {
-                return failed(OTHER_KIND, NONE);
-            }
-            if (!isThere(x) || !isThere(y)) {
+            if (mismatch(!Keys.canBeLike(x.kind, y.kind)) || !isThere(x) || !isThere(y)) {
                 return null;
             }
             int kind = Column.together(x.kind, y.kind);
@@ -2163,10 +2165,7 @@ public final class ColumnHouse {
         }
 
         private Column logical(int op, Column x, Column y) {
-            if (x.kind != FLAG || y.kind != FLAG) {
-                return failed(OTHER_KIND, NONE);
-            }
-            if (!isThere(x) || !isThere(y)) {
+            if (mismatch(x.kind != FLAG || y.kind != FLAG) || !isThere(x) || !isThere(y)) {
                 return null;
             }
             Column out = new Column(FLAG, rows);
@@ -2179,10 +2178,7 @@ public final class ColumnHouse {
         }
 
         private Column made(int kind, Column x) {
-            if (!Column.isNumber(x.kind) && x.kind != FLAG) {
-                return failed(OTHER_KIND, NONE);
-            }
-            if (!make(x, kind, a)) {
+            if (mismatch(!Column.isNumber(x.kind) && x.kind != FLAG) || !make(x, kind, a)) {
                 return null;
             }
             Column out = new Column(kind, rows);
@@ -2191,10 +2187,7 @@ public final class ColumnHouse {
         }
 
         private Column sized(Column x) {
-            if (!Column.isPlain(x.kind)) {
-                return failed(OTHER_KIND, NONE);
-            }
-            if (!isThere(x)) {
+            if (mismatch(!Column.isPlain(x.kind)) || !isThere(x)) {
                 return null;
             }
             int kind = Column.together(x.kind, x.kind);
@@ -2222,10 +2215,7 @@ public final class ColumnHouse {
         }
 
         private Column shaped(int op, Column x) {
-            if (!Column.isFloating(x.kind)) {
-                return failed(OTHER_KIND, NONE);
-            }
-            if (!isThere(x)) {
+            if (mismatch(!Column.isFloating(x.kind)) || !isThere(x)) {
                 return null;
             }
             boolean single = x.kind == SINGLE;
@@ -2243,10 +2233,7 @@ public final class ColumnHouse {
         }
 
         private Column fromBits(Column x) {
-            if (x.kind != WHOLE && x.kind != LONG) {
-                return failed(OTHER_KIND, NONE);
-            }
-            if (!isThere(x)) {
+            if (mismatch(x.kind != WHOLE && x.kind != LONG) || !isThere(x)) {
                 return null;
             }
             Column out = new Column(x.kind == WHOLE ? SINGLE : REAL, rows);
@@ -2257,10 +2244,8 @@ public final class ColumnHouse {
         }
 
         private Column signed(Column x, Column y) {
-            if (!Column.isFloating(x.kind) || !Column.isFloating(y.kind)) {
-                return failed(OTHER_KIND, NONE);
-            }
-            if (!isThere(x) || !isThere(y)) {
+            if (mismatch(!Column.isFloating(x.kind) || !Column.isFloating(y.kind))
+                    || !isThere(x) || !isThere(y)) {
                 return null;
             }
             Column out = new Column(Column.together(x.kind, y.kind), rows);
@@ -2271,10 +2256,8 @@ public final class ColumnHouse {
         }
 
         private Column scaled(Column x, Column n) {
-            if (!Column.isFloating(x.kind) || !isIndex(n.kind)) {
-                return failed(OTHER_KIND, NONE);
-            }
-            if (!isThere(x) || !isThere(n)) {
+            if (mismatch(!Column.isFloating(x.kind) || !isIndex(n.kind))
+                    || !isThere(x) || !isThere(n)) {
                 return null;
             }
             Column out = new Column(x.kind, rows);
@@ -2285,11 +2268,9 @@ public final class ColumnHouse {
         }
 
         private Column multipliedAndAdded(Column x, Column y, Column z) {
-            if (!Column.isFloating(x.kind) || !Column.isFloating(y.kind)
-                    || !Column.isFloating(z.kind)) {
-                return failed(OTHER_KIND, NONE);
-            }
-            if (!isThere(x) || !isThere(y) || !isThere(z)) {
+            boolean floating = Column.isFloating(x.kind) && Column.isFloating(y.kind);
+            if (mismatch(!floating || !Column.isFloating(z.kind))
+                    || !isThere(x) || !isThere(y) || !isThere(z)) {
                 return null;
             }
             Column out = new Column(Math.max(x.kind, Math.max(y.kind, z.kind)), rows);
@@ -2313,10 +2294,7 @@ public final class ColumnHouse {
         }
 
         private Column boxes(Column x) {
-            if (!Column.isNumber(x.kind)) {
-                return failed(OTHER_KIND, NONE);
-            }
-            if (!isThere(x)) {
+            if (mismatch(!Column.isNumber(x.kind)) || !isThere(x)) {
                 return null;
             }
             boolean boxed = Column.isBoxed(x.kind);
@@ -2345,10 +2323,7 @@ public final class ColumnHouse {
         }
 
         private Column running(Column x) {
-            if (!Column.isPlain(x.kind)) {
-                return failed(OTHER_KIND, NONE);
-            }
-            if (!isThere(x)) {
+            if (mismatch(!Column.isPlain(x.kind)) || !isThere(x)) {
                 return null;
             }
             int kind = Column.together(x.kind, x.kind);
@@ -2368,10 +2343,8 @@ public final class ColumnHouse {
         private Column chosen(Column x, Column y, Column z) {
             boolean plain = Column.isPlain(y.kind) && Column.isPlain(z.kind);
             boolean boxed = Column.isBoxed(y.kind) && Column.isBoxed(z.kind);
-            if (x.kind != FLAG || y.kind != z.kind && !plain && !boxed) {
-                return failed(OTHER_KIND, NONE);
-            }
-            if (!isThere(x) || !isThere(y) || !isThere(z)) {
+            if (mismatch(x.kind != FLAG || y.kind != z.kind && !plain && !boxed)
+                    || !isThere(x) || !isThere(y) || !isThere(z)) {
                 return null;
             }
             int kind = y.kind;
@@ -2391,10 +2364,7 @@ public final class ColumnHouse {
         }
 
         private Column itemAt(Column x, Column i) {
-            if (x.kind != LISTS || !isIndex(i.kind)) {
-                return failed(OTHER_KIND, NONE);
-            }
-            if (!hasLists(x) || !isThere(i)) {
+            if (mismatch(x.kind != LISTS || !isIndex(i.kind)) || !hasLists(x) || !isThere(i)) {
                 return null;
             }
             Column out = new Column(WHOLE, rows);
@@ -2408,10 +2378,7 @@ public final class ColumnHouse {
         }
 
         private Column lengths(Column x) {
-            if (x.kind != LISTS) {
-                return failed(OTHER_KIND, NONE);
-            }
-            if (!hasLists(x)) {
+            if (mismatch(x.kind != LISTS) || !hasLists(x)) {
                 return null;
             }
             Column out = new Column(WHOLE, rows);
@@ -2422,10 +2389,7 @@ public final class ColumnHouse {
         }
 
         private Column newLists(Column n) {
-            if (!isIndex(n.kind)) {
-                return failed(OTHER_KIND, NONE);
-            }
-            if (!isThere(n)) {
+            if (mismatch(!isIndex(n.kind)) || !isThere(n)) {
                 return null;
             }
             Column out = new Column(LISTS, rows);
@@ -2442,10 +2406,8 @@ public final class ColumnHouse {
         }
 
         private Column changedLists(Column x, Column i, Column v) {
-            if (x.kind != LISTS || !isIndex(i.kind) || !isIndex(v.kind)) {
-                return failed(OTHER_KIND, NONE);
-            }
-            if (!hasLists(x) || !isThere(i) || !isThere(v)) {
+            if (mismatch(x.kind != LISTS || !isIndex(i.kind) || !isIndex(v.kind))
+                    || !hasLists(x) || !isThere(i) || !isThere(v)) {
                 return null;
             }
             Column out = new Column(LISTS, rows);
@@ -2459,10 +2421,7 @@ public final class ColumnHouse {
         }
 
         private Column joined(Column x, Column y) {
-            if (x.kind != LISTS || y.kind != LISTS) {
-                return failed(OTHER_KIND, NONE);
-            }
-            if (!hasLists(x) || !hasLists(y)) {
+            if (mismatch(x.kind != LISTS || y.kind != LISTS) || !hasLists(x) || !hasLists(y)) {
                 return null;
             }
             Column out = new Column(LISTS, rows);
