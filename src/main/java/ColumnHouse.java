@@ -17,6 +17,8 @@ public final class ColumnHouse {
     private static final int WIDEST = 16;
     private static final int LONGEST_LIST = 20;
     private static final int TAPE = 300;
+    /** The bytes of feed's five words. */
+    private static final int FED = 20;
     private static final int FIRST_CREDIT = 400_000;
     private static final int SAFE_PRICE = 200;
     private static final int BOX_PRICE = 4;
@@ -285,8 +287,7 @@ public final class ColumnHouse {
     }
 
     public int feed(int a, int b, int c, int d, int e) {
-        int all = readables(a) + readables(b) + readables(c) + readables(d) + readables(e);
-        if (taped + all > TAPE) {
+        if (taped + FED > TAPE) {
             return NONE;
         }
         tapeOf(a);
@@ -415,29 +416,14 @@ public final class ColumnHouse {
         return 1;
     }
 
-    /** How many bytes of a word can stand in a query; the others do not come on the tape. */
-    private static int readables(int word) {
-        int n = 0;
-        for (int shift = 24; shift >= 0; shift -= 8) {
-            if (isReadable((word >>> shift) & 255)) {
-                n++;
-            }
-        }
-        return n;
-    }
-
+    /** Every byte comes on the tape; which of them can stand in a query is told when it is read. */
     private void tapeOf(int word) {
         for (int shift = 24; shift >= 0; shift -= 8) {
-            int b = (word >>> shift) & 255;
-            if (isReadable(b) && taped < TAPE) {
-                tape[taped] = (byte) b;
+            if (taped < TAPE) {
+                tape[taped] = (byte) (word >>> shift);
                 taped++;
             }
         }
-    }
-
-    private static boolean isReadable(int b) {
-        return b >= 32 && b <= 126;
     }
 
     /**
@@ -1332,7 +1318,7 @@ public final class ColumnHouse {
         }
 
         private int byteAt(int at) {
-            return at >= 0 && at < end ? text[at] : 0;
+            return at >= 0 && at < end ? text[at] & 255 : 0;
         }
 
         private int behindBlanks(int from) {
@@ -1466,7 +1452,7 @@ public final class ColumnHouse {
         private int scanText(int i, int from) {
             int at = from + 1;
             long held = 0;
-            for (int n = 0; n < 8 && at < end && byteAt(at) != '\''; n++) {
+            for (int n = 0; n < 8 && isOfText(byteAt(at)); n++) {
                 held = (held << 8) | byteAt(at);
                 at++;
             }
@@ -1475,6 +1461,11 @@ public final class ColumnHouse {
                 code[i] = BAD;
             }
             return at + 1;
+        }
+
+        /** Whether a byte can stand between the two ': a query has bytes 32 to 126 alone. */
+        private static boolean isOfText(int b) {
+            return b >= 32 && b <= 126 && b != '\'';
         }
 
         private int scanSign(int i, int at) {

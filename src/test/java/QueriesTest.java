@@ -4,6 +4,8 @@ public final class QueriesTest {
 
     public static void main(String[] args) {
         tape();
+        bytesOfTheTape();
+        bytesThatNoQueryHas();
         asking();
         tokens();
         grammar();
@@ -25,18 +27,54 @@ public final class QueriesTest {
     private static void tape() {
         ColumnHouse x = new ColumnHouse();
         CHECKS.due("twenty bytes", Checks.feed(x, "abcdefghijklmnopqrst"), 20);
-        CHECKS.due("two bytes", x.feed(0x61000000, 0, 0x62, 0, 0), 22);
-        CHECKS.due("none", x.feed(0, 0, 0, 0, 0), 22);
-        CHECKS.due("bytes that no query has", x.feed(0x01ff801f, 0x7f207e0a, 0, 0, 0), 24);
-        for (int n = 44; n <= 284; n += 20) {
+        CHECKS.due("two letters", x.feed(0x61000000, 0, 0x62, 0, 0), 40);
+        CHECKS.due("zeros", x.feed(0, 0, 0, 0, 0), 60);
+        CHECKS.due("bytes that no query has", x.feed(-1, 0x01ff801f, 0x7f207e0a, 0, 32), 80);
+        for (int n = 100; n <= 300; n += 20) {
             CHECKS.due("more", Checks.feed(x, "abcdefghijklmnopqrst"), n);
         }
-        CHECKS.due("too many", Checks.feed(x, "abcdefghijklmnopq"), -1);
-        CHECKS.due("just so many", Checks.feed(x, "abcdefghijklmnop"), 300);
-        CHECKS.due("one too many", x.feed(0x61, 0, 0, 0, 0), -1);
-        CHECKS.due("none too many", x.feed(0, 0, 0, 0, 0), 300);
+        CHECKS.due("too many", Checks.feed(x, "a"), -1);
+        CHECKS.due("zeros are too many, too", x.feed(0, 0, 0, 0, 0), -1);
+        CHECKS.due("more than there are", x.ask(301), -10);
         CHECKS.due("ask of all", x.ask(300), -9);
-        CHECKS.due("the tape is empty", x.feed(0x61, 0, 0, 0, 0), 1);
+        CHECKS.due("the tape is empty", x.feed(0x61, 0, 0, 0, 0), 20);
+    }
+
+    /** Every byte of the tape has its place, the highest of each int first. */
+    private static void bytesOfTheTape() {
+        ColumnHouse x = house();
+        x.feed(0x66726f6d, 0x20743020, 0x66697273, 0x74203120, 0x6c657420);
+        x.feed(0x277a7978, 0x77767574, 0x73270000, 0, 0);
+        CHECKS.due("from t0 first 1 let 'zyxwvuts'", x.ask(30), 1);
+        CHECKS.due("its text", x.cell(6, 2, 0), Checks.text("zyxwvuts"));
+        for (int b = 0; b < 256; b++) {
+            x = b % 64 == 0 ? house() : x;
+            boolean isBlank = b == ' ';
+            String query = "from t0 " + (char) b;
+            CHECKS.fault(x, query + "!", 9, isBlank ? 9 : 8, -1);
+        }
+    }
+
+    /** What can't stand in a query is FAULT 9 where it lies among the n bytes, nothing behind them. */
+    private static void bytesThatNoQueryHas() {
+        int[] bytes = {0, 1, 10, 31, 127, 128, 160, 225, 244, 255};
+        for (int b : bytes) {
+            ColumnHouse x = house();
+            char c = (char) b;
+            CHECKS.fault(x, "from t0" + c, 9, 7, -1);
+            CHECKS.fault(x, "from t0 " + c, 9, 8, -1);
+            CHECKS.fault(x, c + "from t0", 9, 0, -1);
+            CHECKS.fault(x, "from" + c + "t0", 9, 4, -1);
+            CHECKS.fault(x, "from t0 let 1" + c, 9, 13, -1);
+            CHECKS.fault(x, "from t0 let 1." + c, 9, 13, -1);
+            CHECKS.fault(x, "from t0 let a <" + c + "= a", 9, 15, -1);
+            CHECKS.fault(x, "from t0 let 'a" + c + "b'", 9, 12, -1);
+            CHECKS.fault(x, "from t0 let 'abcdefgh" + c + "'", 9, 12, -1);
+            CHECKS.fault(x, "from t0 let 'abc" + c, 9, 12, -1);
+            CHECKS.fault(x, "from t0 rubbish" + c, 9, 8, -1);
+            Checks.feed(x, "from t0" + c + c + c);
+            CHECKS.due("behind the n bytes", x.ask(7), 3);
+        }
     }
 
     private static void asking() {
@@ -47,8 +85,8 @@ public final class QueriesTest {
         CHECKS.due("fault(1) is as ahead of any", x.fault(1), -1);
         CHECKS.due("ask(0)", x.ask(0), -9);
         CHECKS.due("its place", x.fault(1), 0);
-        CHECKS.due("feed", Checks.feed(x, "from t0 rubbish"), 15);
-        CHECKS.due("ask(16) does nothing", x.ask(16), -10);
+        CHECKS.due("feed", Checks.feed(x, "from t0 rubbish"), 20);
+        CHECKS.due("ask(21) does nothing", x.ask(21), -10);
         CHECKS.due("ask of the first bytes", x.ask(7), 3);
         CHECKS.due("the rest is gone", x.ask(1), -10);
         CHECKS.due("fault(0)", x.fault(0), 0);
@@ -58,7 +96,7 @@ public final class QueriesTest {
         CHECKS.due("RESULT cell", x.cell(6, 0, 2), 9);
         CHECKS.due("a query's answer is less its FAULT", Checks.ask(x, "from t0 keep p"), -2);
         CHECKS.due("the RESULT stays", x.size(6, 1), 2);
-        CHECKS.due("the tape is empty", x.feed(0, 0, 0, 0, 0), 0);
+        CHECKS.due("the tape is empty", x.feed(0, 0, 0, 0, 0), 20);
     }
 
     private static void tokens() {

@@ -23,7 +23,7 @@ public final class TablesTest {
             CHECKS.due("number(" + t + ", 0, 0, 0)", x.number(t, 0, 0, 0), 0);
         }
         CHECKS.due("credit()", x.credit(), 400_000);
-        CHECKS.due("feed nothing", x.feed(0, 0, 0, 0, 0), 0);
+        CHECKS.due("the tape is empty", x.ask(1), -10);
         CHECKS.due("fault(0)", x.fault(0), 0);
         CHECKS.due("fault(1)", x.fault(1), -1);
         CHECKS.due("fault(2)", x.fault(2), -1);
