@@ -38,6 +38,10 @@ public final class QueriesTest {
         CHECKS.due("more than there are", x.ask(301), -10);
         CHECKS.due("ask of all", x.ask(300), -9);
         CHECKS.due("the tape is empty", x.feed(0x61, 0, 0, 0, 0), 20);
+        x = new ColumnHouse();
+        CHECKS.due("zeros on a new tape", x.feed(0, 0, 0, 0, 0), 20);
+        x = new ColumnHouse();
+        CHECKS.due("any bytes on a new tape", x.feed(-1, 16909060, 2139062143, 32, 0), 20);
     }
 
     /** Every byte of the tape has its place, the highest of each int first. */
