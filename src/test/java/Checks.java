@@ -1,6 +1,14 @@
+import java.io.IOException;
+import java.nio.file.Files;
+import java.nio.file.Path;
+
 /** Counts what a test finds wrong, and knows how to put a query on the tape. */
 final class Checks {
+    /** The document, where it can be had: what is quoted of it must stand in it. */
+    private static final String DOCUMENT = document();
+
     private final String name;
+    private String sentence = "";
     private int done;
     private int wrong;
 
@@ -8,11 +16,28 @@ final class Checks {
         this.name = name;
     }
 
+    private static String document() {
+        try {
+            return Files.readString(Path.of("../shared/DOC.md"));
+        } catch (IOException e) {
+            return "";
+        }
+    }
+
+    /** What the document says of the answers that follow. */
+    void says(String sentence) {
+        this.sentence = sentence;
+        holds("it is quoted from the document", DOCUMENT.isEmpty() || DOCUMENT.contains(sentence));
+    }
+
     void due(String call, long got, long want) {
         done++;
         if (got != want) {
             wrong++;
             System.out.println(name + ": " + call + " answered " + got + ", due is " + want);
+            if (!sentence.isEmpty()) {
+                System.out.println("    the document says: " + sentence);
+            }
         }
     }
 
@@ -72,11 +97,55 @@ final class Checks {
         }
     }
 
+    /** The last column of the RESULT of a query that ends well: its kind and its cells. */
+    void gives(ColumnHouse x, String query, int kind, long... want) {
+        fine(x, query, want.length);
+        int last = x.size(6, 1) - 1;
+        due(query + ": kind", x.kind(6, last), kind);
+        cells(x, query, last, want);
+    }
+
+    /** A query that ends well, and what it takes of CREDIT. */
+    void takes(ColumnHouse x, String query, int price) {
+        int left = x.credit();
+        ask(x, query);
+        due(query + ": CREDIT", left - x.credit(), price);
+    }
+
     /** A column more of a table, with what is put into it. */
     static int column(ColumnHouse x, int table, int kind, long... values) {
         int column = x.column(table, kind);
         for (int r = 0; r < values.length; r++) {
             x.put(table, column, r, values[r]);
+        }
+        return column;
+    }
+
+    /** A column more of boxes: null is NOTHING, an Integer a WHOLE, a Double a REAL, a String a text. */
+    static int boxes(ColumnHouse x, int table, int kind, Object... values) {
+        int column = x.column(table, kind);
+        for (int r = 0; r < values.length; r++) {
+            if (values[r] instanceof Integer) {
+                x.box(table, column, r, 1, (Integer) values[r]);
+            } else if (values[r] instanceof Double) {
+                x.box(table, column, r, 2, real((Double) values[r]));
+            } else if (values[r] instanceof String) {
+                x.box(table, column, r, 3, text((String) values[r]));
+            }
+        }
+        return column;
+    }
+
+    /** A column more of LISTS; null is NOTHING. */
+    static int lists(ColumnHouse x, int table, int[]... values) {
+        int column = x.column(table, 11);
+        for (int r = 0; r < values.length; r++) {
+            if (values[r] != null) {
+                x.put(table, column, r, values[r].length);
+                for (int i = 0; i < values[r].length; i++) {
+                    x.item(table, column, r, i, values[r][i]);
+                }
+            }
         }
         return column;
     }
