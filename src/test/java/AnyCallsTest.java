@@ -14,7 +14,8 @@ public final class AnyCallsTest {
         300, Integer.MAX_VALUE, Integer.MIN_VALUE};
 
     private final Random random;
-    private final ColumnHouse x = new ColumnHouse();
+    private final CountedHouse house = new CountedHouse();
+    private final ColumnHouse x = house.x;
     private int credit = 400_000;
 
     private AnyCallsTest(long seed) {
@@ -22,7 +23,7 @@ public final class AnyCallsTest {
     }
 
     public static void main(String[] args) {
-        int runs = args.length > 0 ? Integer.parseInt(args[0]) : 400;
+        int runs = args.length > 0 ? Integer.parseInt(args[0]) : 1500;
         for (int seed = 0; seed < runs; seed++) {
             new AnyCallsTest(seed).run(seed);
         }
@@ -38,19 +39,22 @@ public final class AnyCallsTest {
     }
 
     private void run(int seed) {
-        for (int i = 0; i < 400; i++) {
+        // No call of these makes more than 17, with credit().
+        for (int i = 0; house.has(20); i++) {
             try {
                 call();
             } catch (RuntimeException e) {
                 CHECKS.holds("seed " + seed + ", call " + i + ": " + e, false);
                 return;
             }
-            CHECKS.holds("CREDIT never grows and is never below 0", x.credit() >= 0 && x.credit() <= credit);
-            credit = x.credit();
+            int left = house.credit();
+            CHECKS.holds("CREDIT never grows and is never below 0", left >= 0 && left <= credit);
+            credit = left;
         }
     }
 
     private void call() {
+        house.lend(1);
         switch (any(18)) {
             case 0:
                 x.table(some(), any(2) == 0 ? some() : any(5));
@@ -86,15 +90,16 @@ public final class AnyCallsTest {
                 break;
             case 12:
             case 13:
-                Checks.ask(x, soup());
+                house.ask(soup());
                 break;
             default:
-                Checks.ask(x, nearQuery());
+                house.ask(nearQuery());
                 break;
         }
     }
 
     private void see() {
+        house.lend(6);
         x.fault(some());
         x.held(some());
         x.size(some(), some());

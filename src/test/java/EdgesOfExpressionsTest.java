@@ -310,6 +310,8 @@ public final class EdgesOfExpressionsTest {
             away("prior(a)", "prior", kind);
             away("a = a", "=", kind);
             away("a # a", "#", kind);
+            away("a = b", "=", kind, kind);
+            away("b # a", "#", kind, kind);
             away("if(1 = 1, a, a)", "if", kind);
             away("if(row = 9, a, b)", "if", kind, kind);
             away("if(row = row, b, a)", "if", kind, kind);
@@ -528,6 +530,13 @@ public final class EdgesOfExpressionsTest {
         CHECKS.due("8 is not taken up", z.fault(3), 0);
         CHECKS.due("what is left", z.credit(), 239);
         CHECKS.fault(z, "from t0 let safe(a + nil, a)", 8, 21, -1);
+        ColumnHouse w = of(60, 3);
+        Checks.spendTo(w, 60 + 239);
+        CHECKS.fault(w, "from t0 let safe(nil, a)", 8, 17, -1);
+        w.table(1, 0);
+        CHECKS.fault(w, "from t1 let a", 2, 12, -1);
+        CHECKS.due("the query ahead takes nothing up", w.fault(3), 0);
+        CHECKS.due("nor does it take CREDIT", w.credit(), 239);
     }
 
     private static void safeInOneAnother() {

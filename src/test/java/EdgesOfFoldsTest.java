@@ -112,6 +112,17 @@ public final class EdgesOfFoldsTest {
         x.box(0, 0, 2, 3, 0xffffffffffffffffL);
         x.box(0, 0, 3, 3, 0x01);
         sorted(x, rows(3, 1, 0, 2), rows(2, 0, 1, 3));
+        ColumnHouse y = new ColumnHouse();
+        y.table(0, 4);
+        y.column(0, 10);
+        y.box(0, 0, 0, 3, 0x0101);
+        y.box(0, 0, 1, 3, 0x01);
+        y.box(0, 0, 2, 3, 0);
+        y.box(0, 0, 3, 3, 0x0201010101010101L);
+        sorted(y, rows(2, 1, 0, 3), rows(3, 0, 1, 2));
+        CHECKS.gives(y, "from t0 let a = ''", 7, 0, 0, 1, 0);
+        CHECKS.gives(y, "from t0 let '' < a", 7, 1, 1, 0, 1);
+        CHECKS.gives(y, "from t0 group a : count", 3, 1, 1, 1, 1);
         sorted(ofBoxes(10, null, "z", null), rows(1, 0, 2), rows(1, 0, 2));
     }
 

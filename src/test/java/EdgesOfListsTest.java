@@ -90,6 +90,7 @@ public final class EdgesOfListsTest {
     private static void lengths() {
         CHECKS.says("len: LISTS (NOTHING 1): a WHOLE.");
         CHECKS.gives(of(upTo(0), upTo(1), upTo(20)), "from t0 let len(a)", 3, 0, 1, 20);
+        CHECKS.gives(of(upTo(20), upTo(0)), "from t0 let len(a)", 3, 20, 0);
         CHECKS.fault(of(null, upTo(0)), "from t0 let len(a)", 1, 12, 0);
         CHECKS.fault(of(upTo(0), null, null), "from t0 let len(a)", 1, 12, 1);
         CHECKS.gives(of(), "from t0 let len(a)", 3);

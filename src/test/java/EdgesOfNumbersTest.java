@@ -246,6 +246,10 @@ public final class EdgesOfNumbersTest {
         CHECKS.gives(x, "from t0 let a / 2", 6, Checks.real(8388608.5));
         CHECKS.gives(x, "from t0 let c + c", 3, 254);
         CHECKS.gives(x, "from t0 let c * c * c * c * c", 3, (int) (127L * 127 * 127 * 127 * 127));
+        CHECKS.says("a box of a number as a REAL;");
+        table("box(a) * 1", 0, 0.0, -0.0, -0.0, 0f, 0.0, -0f, -0.0, LEAST, -2147483648.0, Long.MAX_VALUE, 0x1p63);
+        table("1 / box(a)", 0, INF, -0.0, -INF, 0L, INF);
+        table("-box(a)", 0, -0.0, 1, -1.0);
     }
 
     private static void likeNumbers() {
@@ -400,6 +404,13 @@ public final class EdgesOfNumbersTest {
 
     private static void floatingToWhole() {
         CHECKS.says("floating to WHOLE or LONG: cut towards 0, beyond the least or greatest that, of a NaN 0;");
+        for (int n = 1; n <= 70; n++) {
+            gives(0L, "long(a)", Math.scalb(1.5, -n));
+            gives(0, "whole(a)", -Math.scalb(1.5, -n));
+            gives(1L << n % 62, "long(a)", Math.scalb(1.0, n % 62));
+            gives(n == 1 ? 1L : 0L, "round(a)", Math.scalb(1.5, -n));
+            gives(n == 1 ? -1L : 0L, "round(a)", -Math.scalb(1.5, -n));
+        }
         table("whole(a)", 0.9, 0, -0.9, 0, 1.0, 1, -1.9, -1, 0.0, 0, -0.0, 0, 2147483646.9, MOST - 1, 2147483647.0, MOST, 2147483647.9, MOST,
                 2147483648.0, MOST, -2147483647.9, -MOST, -2147483648.0, LEAST, -2147483648.9, LEAST, -2147483649.0, LEAST, INF, MOST,
                 -INF, LEAST, NAN, 0, GREATEST, MOST, TINIEST, 0, 0x1p63, MOST, 0x1p31f, MOST, -0x1p31f, LEAST, Float.NaN, 0, FINF, MOST,
@@ -424,6 +435,9 @@ public final class EdgesOfNumbersTest {
             gives((float) a, "single(a)", a);
         }
         table("single(a)", 0x1.ffffffp127, FINF, 0x1p-150, 0f, -0x1p-150, -0f, 3 * 0x1p-150, 0x1p-148f);
+        table("real(single(a))", 0x1.ffffffp127, INF, -0x1.ffffffp127, -INF, 0.1, (double) 0.1f, 0x1p-150, 0.0);
+        table("single(a) - single(a)", 0x1.ffffffp127, Float.NaN, 0.1, 0f);
+        table("single(box(a))", 0.1, 0.1f, 0x1p128, FINF, 16777217, 0x1p24f, -0.7, -0.7f);
         CHECKS.says("(made a SINGLE)");
         CHECKS.gives(of(1), "from t0 let 999999.999f", 5, Checks.single(1000000f));
         CHECKS.gives(of(1), "from t0 let 0.3f", 5, Checks.single(0.3f));
@@ -492,7 +506,8 @@ public final class EdgesOfNumbersTest {
 
     private static void roots() {
         CHECKS.says("sqrt (of a SINGLE as a REAL, made SINGLE)");
-        double[] reals = {0.0, -0.0, 1, 2, 4, 0.25, TINIEST, 3 * TINIEST, NORMAL, GREATEST, INF, -INF, -1, -TINIEST, NAN, 1 + 0x1p-52, 0x1p53, 3};
+        double[] reals = {0.0, -0.0, 1, 2, 4, 0.25, TINIEST, 3 * TINIEST, NORMAL, GREATEST, INF, -INF, -1, -TINIEST, NAN, 1 + 0x1p-52, 0x1p53, 3,
+            2 - 0x1p-52, 4 - 0x1p-51, 1 - 0x1p-53, 0x1.0000000000003p1, 0x1.5555555555557p0, 0x1p1022 - 0x1p969, 9, 0.1};
         for (double a : reals) {
             gives(Math.sqrt(a), "sqrt(a)", a);
         }

@@ -6,6 +6,7 @@ public final class EdgesOfStepsTest {
     private static final long NAN = Checks.real(Double.NaN);
 
     public static void main(String[] args) {
+        nineFaults();
         sixteenColumns();
         from();
         resultAndTables();
@@ -32,6 +33,7 @@ public final class EdgesOfStepsTest {
         into();
         over();
         overRefuses();
+        stepsBehindOneAnother();
         placesAndRows();
         CHECKS.end();
     }
@@ -51,6 +53,25 @@ public final class EdgesOfStepsTest {
         x.table(0, n);
         x.column(0, 3);
         return x;
+    }
+
+    private static void nineFaults() {
+        CHECKS.says("FAULTS: 1 NOTHING, or AWAY, where something must be. 2 a place beyond. 3 a size below 0. 4 another kind than it must be. "
+                + "5 what doesn't go into such a column. 6 a whole number divided by 0. 7 no room. 8 no CREDIT. 9 a query that can't be read.");
+        ColumnHouse x = house(8);
+        x.table(1, 3);
+        x.column(1, 3);
+        CHECKS.fault(x, "from t0 let a + 1", 1, 14, 0);
+        CHECKS.fault(x, "from t0 let list(1)[1]", 2, 19, 0);
+        CHECKS.fault(x, "from t0 let list(0 - 1)", 3, 12, 0);
+        CHECKS.fault(x, "from t0 let not b", 4, 12, -1);
+        CHECKS.fault(x, "from t0 over t1 at 0", 5, 8, -1);
+        CHECKS.fault(x, "from t0 let b % 0", 6, 14, 0);
+        CHECKS.fault(x, "from t0 let list(21)", 7, 12, 0);
+        CHECKS.fault(x, "from t0 let", 9, 11, -1);
+        Checks.spendTo(x, 14);
+        CHECKS.fault(x, "from t0", 8, 0, -1);
+        CHECKS.fine(x, "from t1", 3);
     }
 
     private static void sixteenColumns() {
@@ -354,6 +375,8 @@ public final class EdgesOfStepsTest {
         CHECKS.fault(x, "from t0 keep a" + ",b".repeat(16), 7, 8, -1);
         CHECKS.fault(x, "from t0 keep a" + ",b".repeat(60), 7, 8, -1);
         CHECKS.fault(x, "from t0 keep b keep b", 2, 20, -1);
+        CHECKS.gives(x, "from t0 keep b, a keep a", 3, 1, 2, 3);
+        CHECKS.due("these alone", x.size(6, 1), 1);
     }
 
     private static void joinRefuses() {
@@ -410,11 +433,13 @@ public final class EdgesOfStepsTest {
         Checks.column(x, 0, 3, 1, 2, 1, 3);
         x.table(1, 3);
         Checks.column(x, 1, 4, 1, 4, 1);
+        Checks.column(x, 1, 3, 10, 11, 12);
         CHECKS.gives(x, "from t0 let row join t1 on a = a let row", 3, 0, 1, 2, 3);
         CHECKS.cells(x, "by the one", 1, 0, 0, 2, 2);
-        CHECKS.cells(x, "then the other", 2, 1, 1, 1, 1);
+        CHECKS.cells(x, "then the other", 3, 10, 12, 10, 12);
+        CHECKS.cells(x, "both are =", 2, 1, 1, 1, 1);
         CHECKS.fine(x, "from t1 let row join t0 on a = a", 4);
-        CHECKS.cells(x, "by the one", 1, 0, 0, 2, 2);
+        CHECKS.cells(x, "by the one", 2, 0, 0, 2, 2);
         x.table(2, 4);
         Checks.column(x, 2, 6, NAN, Checks.real(-0.0), Checks.real(0.0), NAN);
         CHECKS.fine(x, "from t2 let row join t2 on a = a", 4);
@@ -483,6 +508,14 @@ public final class EdgesOfStepsTest {
         CHECKS.fault(x, "from t0 join t0 on a = a", 1, 8, -1);
         CHECKS.takes(x, "from t0 join t1 on a = a", 8);
         CHECKS.fault(pairsAway(5), "from t0 join t1 on a = a", 1, 8, -1);
+        ColumnHouse one = rows(1);
+        one.table(1, 1);
+        Checks.column(one, 1, 3, 5);
+        CHECKS.fine(one, "from t0 join t1 on a = a", 0);
+        one.away(1, 0, true);
+        CHECKS.fault(one, "from t0 join t1 on a = a", 1, 8, -1);
+        CHECKS.fault(one, "from t1 join t0 on a = a", 1, 8, -1);
+        CHECKS.fine(one, "from t0 join t0 on a = a", 1);
         x.table(2, 0);
         x.column(2, 3);
         x.away(2, 0, true);
@@ -567,6 +600,9 @@ public final class EdgesOfStepsTest {
         CHECKS.fault(x, "from t0 group b, a : sum(p)", 1, 8, -1);
         CHECKS.fault(x, "from t0 group a, c : count", 2, 17, -1);
         CHECKS.gives(x, "from t0 group b : count", 3, 1, 1, 1);
+        ColumnHouse one = rows(1);
+        one.away(0, 0, true);
+        CHECKS.fault(one, "from t0 group a : count", 1, 8, -1);
         x.table(1, 0);
         x.column(1, 3);
         x.away(1, 0, true);
@@ -711,6 +747,33 @@ public final class EdgesOfStepsTest {
         cells(x, 4, 0, 0, 7, 1, 7, 7);
         CHECKS.fault(x, "from t3 let row sort b down keep a over t4 at 0", 5, 35, 1);
         cells(x, 4, 0, 2, 7, 1, 7, 7);
+    }
+
+    private static void stepsBehindOneAnother() {
+        CHECKS.says("A QUERY is done step by step on a WORKING TABLE");
+        ColumnHouse x = new ColumnHouse();
+        x.table(0, 3);
+        Checks.column(x, 0, 3, 3, 1, 2);
+        Checks.column(x, 0, 3, 1, 1, 2);
+        CHECKS.gives(x, "from t0 sort a sort b sort a down", 3, 1, 2, 1);
+        CHECKS.cells(x, "sorted", 0, 3, 2, 1);
+        CHECKS.gives(x, "from t0 keep a, b keep b, a group a : last(b)", 3, 1, 2);
+        CHECKS.due("two columns", x.size(6, 1), 2);
+        CHECKS.gives(x, "from t0 sort a join t0 on a = a keep c, d, b keep c", 3, 1, 2, 1);
+        CHECKS.due("one column", x.size(6, 1), 1);
+        CHECKS.gives(x, "from t0 join t0 on a = a join t0 on b = b keep a, f sort b", 3, 1, 1, 1, 1, 2);
+        CHECKS.due("two columns", x.size(6, 1), 2);
+        CHECKS.gives(x, "from t0 group b : count group b : count, sum(a)", 4, 1, 2);
+        CHECKS.due("three columns", x.size(6, 1), 3);
+        CHECKS.gives(x, "from t0 group b : count sort b keep a join t0 on a = b keep b", 3, 2, 3, 1);
+        CHECKS.fault(x, "from t0 keep a keep c", 2, 20, -1);
+        CHECKS.gives(x, "from t0 keep b", 3, 1, 1, 2);
+        CHECKS.due("one column", x.size(6, 1), 1);
+        CHECKS.fault(x, "from t0 join t0 on b = p", 2, 23, -1);
+        CHECKS.fine(x, "from t0 join t0 on a = a", 3);
+        CHECKS.fault(x, "from t0 group a, b, c : count", 2, 20, -1);
+        CHECKS.gives(x, "from t0 group b : count", 3, 2, 1);
+        CHECKS.due("two columns", x.size(6, 1), 2);
     }
 
     private static void placesAndRows() {

@@ -18,6 +18,7 @@ public final class EdgesOfTablesTest {
         sizes();
         kinds();
         creditLeft();
+        fiveHundredAndTwelveCalls();
         CHECKS.end();
     }
 
@@ -300,5 +301,33 @@ public final class EdgesOfTablesTest {
         CHECKS.due("none", x.credit(), 0);
         CHECKS.due("a table takes none", x.table(1, 60), 1);
         CHECKS.due("none is not below 0", x.credit(), 0);
+    }
+
+    /** The dearest calls that there are room for: 31 queries of 300 bytes, with what is fed for them. */
+    private static void fiveHundredAndTwelveCalls() {
+        CHECKS.says("An object is used for at most 512 calls after it has been made;");
+        ColumnHouse x = new ColumnHouse();
+        x.table(0, 60);
+        for (int c = 0; c < 8; c++) {
+            x.column(0, 11);
+        }
+        String dear = "from t0" + " let list(20) first 60 keep a,b,c,d,e,f,g,i".repeat(4);
+        String filled = dear + " ".repeat(300 - dear.length());
+        int done = 9;
+        while (done + 16 <= 512 - 5) {
+            CHECKS.due("a query", Checks.ask(x, filled), 60);
+            done += 16;
+        }
+        CHECKS.due("31 queries", done, 9 + 31 * 16);
+        int each = 60 * (4 * 8 + 4 * (1 + 4 + 4 * 9));
+        CHECKS.due("credit()", x.credit(), 400_000 - 8 * 240 - 31 * each);
+        CHECKS.due("the RESULT", x.size(6, 0), 60);
+        CHECKS.due("a list of it", x.cell(6, 7, 59), 20);
+        done += 3;
+        while (done < 511) {
+            CHECKS.due("size", x.size(0, 1), 8);
+            done++;
+        }
+        CHECKS.due("the 512th", x.put(0, 0, 59, 20), 1);
     }
 }

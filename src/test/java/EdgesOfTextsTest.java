@@ -195,9 +195,16 @@ public final class EdgesOfTextsTest {
                 unreadable("from t0 keep a, " + c, 16);
             }
         }
-        for (String word : new String[] {"aa", "ab", "where", "count", "sum", "last", "any", "on", "at", "down", "rows",
-            "ro", "nill", "abss", "A", "Row", "t0", "row1", "nil0", "zzzz", "ceiling"}) {
+        unreadable("from t0 let where", 12);
+        for (String word : new String[] {"aa", "ab", "count", "sum", "last", "any", "on", "at", "down", "rows",
+            "ro", "nill", "abss", "A", "Row", "t0", "row1", "nil0", "zzzz", "ceiling", "az", "za", "pz", "a0", "p9"}) {
             unreadable("from t0 let " + word, 12);
+            unreadable("from t0 let a " + word, 14);
+            unreadable("from t0 " + word + " a!", 8);
+        }
+        for (String word : new String[] {"t6", "t5", "t00", "a1", "first1", "b2", "sort0"}) {
+            unreadable("from t0 " + word, 8);
+            unreadable("from t0 first 1 " + word, 16);
         }
     }
 
@@ -337,6 +344,9 @@ public final class EdgesOfTextsTest {
      * byte doesn't begin can stand.
      */
     private static void queriesCutOff() {
+        CHECKS.says("step = \"where\" ex | \"let\" ex | \"keep\" column {\",\" column} | \"join\" table \"on\" column \"=\" column | "
+                + "\"group\" [column {\",\" column}] \":\" fold {\",\" fold} | \"sort\" column [\"down\"] | \"first\" number | "
+                + "\"into\" table | \"over\" table \"at\" number.");
         CHECKS.says("The first token that can't stand there (the text's end, too; a byte that begins none;");
         String[] all = {
             "from t0. where b.", "from t0. let a. + 1. - a. * 2. / 3. % 4.", "from t0. keep a. , b. , c.",
@@ -367,6 +377,8 @@ public final class EdgesOfTextsTest {
     }
 
     private static void tokensThatCanNotStandThere() {
+        CHECKS.says("fold = \"count\" | (\"sum\" | \"max\" | \"min\" | \"last\" | \"any\") \"(\" ex \")\".");
+        CHECKS.says("one = NUMBER | TEXT | \"nil\" | \"row\" | column | FUNCTION \"(\" ex {\",\" ex} \")\" | \"(\" ex \")\".");
         CHECKS.says("The first token that can't stand there");
         String[] all = {"@where b", "from @from t0", "from t0 @b", "from t0 @from t0", "from t0 @on", "from t0 @at",
             "from t0 @down", "from t0 @1", "from t0 @(", "from t0 @count", "from t0 let a @a", "from t0 let a @1",
@@ -455,6 +467,14 @@ public final class EdgesOfTextsTest {
         unreadable("from t0 let " + "(".repeat(20) + "abs(a)" + ")".repeat(20), 35);
         unreadable("from t0 group : sum(" + "(".repeat(20) + "a" + ")".repeat(21), 39);
         readable("from t0 group : sum(" + "(".repeat(19) + "a" + ")".repeat(20));
+        ColumnHouse x = house();
+        String twenty = "from t0 let " + "(".repeat(20) + "a" + ")".repeat(20);
+        String more = "from t0 let " + "(".repeat(21) + "a" + ")".repeat(21);
+        for (String unread : new String[] {more, "from t0 let ((((", "from t0 let ((((a)]", "from t0 let (((a)))))"}) {
+            CHECKS.holds(unread, Checks.ask(x, unread) == -9);
+            CHECKS.gives(x, twenty, 3, 5, 7);
+            CHECKS.fault(x, more, 9, 32, -1);
+        }
     }
 
     /** A query of brackets in one another: the place of the 21st is told if there is one. */

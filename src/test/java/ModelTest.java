@@ -15,7 +15,7 @@ public final class ModelTest {
     private static final String[] TEXTS = {"", "a", "ab", "abc", "b", "zzzzzzzz"};
 
     private final Random random;
-    private final ColumnHouse house = new ColumnHouse();
+    private final CountedHouse house = new CountedHouse();
     private final Model model = new Model();
     private StringBuilder text = new StringBuilder();
     /** What the generator guesses of the WORKING TABLE, so that most columns are there. */
@@ -27,7 +27,7 @@ public final class ModelTest {
     }
 
     public static void main(String[] args) {
-        int runs = args.length > 0 ? Integer.parseInt(args[0]) : 1500;
+        int runs = args.length > 0 ? Integer.parseInt(args[0]) : 8000;
         long from = args.length > 1 ? Long.parseLong(args[1]) : 0;
         for (long seed = from; seed < from + runs; seed++) {
             new ModelTest(seed).run(seed);
@@ -46,21 +46,23 @@ public final class ModelTest {
     private void run(long seed) {
         wild = odds(3);
         if (odds(6)) {
-            Checks.spendTo(house, any(900));
+            Checks.spendTo(house.lend(300), any(900));
         }
-        Checks.ask(house, "from t4");
+        house.ask("from t4");
         for (int t = 0; t < 4; t++) {
             fill(t);
         }
         model.credit = house.credit();
-        for (int q = 0; q < 8; q++) {
+        String what = "";
+        int queries = 1 + any(4);
+        for (int q = 0; q < queries; q++) {
             List<Model.Step> steps = query();
-            if (text.length() > 300) {
+            if (text.length() > 300 || !house.has(CountedHouse.callsOf(text.toString()) + 20)) {
                 continue;
             }
-            String what = "seed " + seed + ": " + text;
+            what = "seed " + seed + ": " + text;
             int due = model.ask(steps);
-            CHECKS.due(what, Checks.ask(house, text.toString()), due);
+            CHECKS.due(what, house.ask(text.toString()), due);
             CHECKS.due(what + " fault(0)", house.fault(0), model.fault);
             CHECKS.due(what + " fault(1)", house.fault(1), model.place);
             CHECKS.due(what + " fault(2)", house.fault(2), model.row);
@@ -69,27 +71,42 @@ public final class ModelTest {
             for (int i = 0; i <= model.held.size(); i++) {
                 CHECKS.due(what + " held", house.held(i), i < model.held.size() ? model.held.get(i) : -1);
             }
-            same(what);
+        }
+        for (int t : odds(3) ? new int[] {0, 1, 2, 3, 6} : new int[] {6, 3, 2, 1, 0}) {
+            same(what, t);
         }
     }
 
-    private void same(String what) {
-        for (int t : new int[] {0, 1, 2, 3, 6}) {
-            Model.Tab tab = model.tables[t];
+    /** Compares a table as far as calls are left, from its last column on or from its first. */
+    private void same(String what, int t) {
+        Model.Tab tab = model.tables[t];
+        if (house.has(2)) {
             CHECKS.due(what + " size(" + t + ", 0)", house.size(t, 0), tab.rows);
             CHECKS.due(what + " size(" + t + ", 1)", house.size(t, 1), tab.cols.size());
-            for (int c = 0; c < tab.cols.size(); c++) {
+        }
+        int columns = tab.cols.size();
+        boolean back = odds(2);
+        for (int i = 0; i < columns; i++) {
+            int c = back ? columns - 1 - i : i;
+            if (house.has(1)) {
                 CHECKS.due(what + " kind(" + t + ", " + c + ")", house.kind(t, c), model.kind(t, c));
-                for (int r = 0; r < tab.rows; r++) {
-                    String cell = what + " (" + t + ", " + c + ", " + r + ")";
-                    CHECKS.due(cell, house.cell(t, c, r), model.cell(t, c, r));
-                    CHECKS.due(cell + " sort", house.sort(t, c, r), model.sort(t, c, r));
-                    Object e = tab.cols.get(c).e[r];
-                    for (int i = 0; e instanceof int[] && i < ((int[]) e).length; i++) {
-                        CHECKS.due(cell + " number", house.number(t, c, r, i), ((int[]) e)[i]);
-                    }
-                }
             }
+            for (int r = 0; r < tab.rows; r++) {
+                sameElement(what, t, c, r);
+            }
+        }
+    }
+
+    private void sameElement(String what, int t, int c, int r) {
+        Object e = model.tables[t].cols.get(c).e[r];
+        if (!house.has(22)) {
+            return;
+        }
+        String cell = what + " (" + t + ", " + c + ", " + r + ")";
+        CHECKS.due(cell, house.cell(t, c, r), model.cell(t, c, r));
+        CHECKS.due(cell + " sort", house.sort(t, c, r), model.sort(t, c, r));
+        for (int i = 0; e instanceof int[] && i < ((int[]) e).length; i++) {
+            CHECKS.due(cell + " number", house.number(t, c, r, i), ((int[]) e)[i]);
         }
     }
 

@@ -1,4 +1,7 @@
 import java.util.Random;
+import java.util.function.IntPredicate;
+import java.util.function.IntToDoubleFunction;
+import java.util.function.Supplier;
 
 /** Promises 10 and 15: what queries reckon of SINGLEs and REALs is what the Java machine has for it. */
 public final class RealsTest {
@@ -101,7 +104,8 @@ public final class RealsTest {
         return kind == 1 ? RANDOM.nextLong() : RANDOM.nextLong() >> RANDOM.nextInt(64);
     }
 
-    private static void check(ColumnHouse x, String ex, int kind, Due due) {
+    private static void check(Supplier<ColumnHouse> made, String ex, int kind, Due due) {
+        ColumnHouse x = made.get();
         CHECKS.due(ex, Checks.ask(x, "from t0 let " + ex), ROWS);
         int column = x.size(6, 1) - 1;
         CHECKS.due(ex + " kind", x.kind(6, column), kind);
@@ -110,20 +114,20 @@ public final class RealsTest {
         }
     }
 
-    private static void real(ColumnHouse x, String ex, java.util.function.IntToDoubleFunction due) {
+    private static void real(Supplier<ColumnHouse> x, String ex, IntToDoubleFunction due) {
         check(x, ex, 6, r -> Double.doubleToLongBits(due.applyAsDouble(r)));
     }
 
     /** What is due is a SINGLE, widened. */
-    private static void single(ColumnHouse x, String ex, java.util.function.IntToDoubleFunction due) {
+    private static void single(Supplier<ColumnHouse> x, String ex, IntToDoubleFunction due) {
         check(x, ex, 5, r -> Float.floatToIntBits((float) due.applyAsDouble(r)));
     }
 
-    private static void flag(ColumnHouse x, String ex, java.util.function.IntPredicate due) {
+    private static void flag(Supplier<ColumnHouse> x, String ex, IntPredicate due) {
         check(x, ex, 7, r -> due.test(r) ? 1 : 0);
     }
 
-    private static void ofReals() {
+    private static ColumnHouse reals() {
         ColumnHouse x = new ColumnHouse();
         x.table(0, ROWS);
         x.column(0, 6);
@@ -134,6 +138,11 @@ public final class RealsTest {
             x.put(0, 1, r, Double.doubleToRawLongBits(b[r]));
             x.put(0, 2, r, n[r]);
         }
+        return x;
+    }
+
+    private static void ofReals() {
+        Supplier<ColumnHouse> x = RealsTest::reals;
         real(x, "a", r -> a[r]);
         real(x, "a + b", r -> a[r] + b[r]);
         real(x, "a - b", r -> a[r] - b[r]);
@@ -173,7 +182,7 @@ public final class RealsTest {
         flag(x, "missing(a)", r -> Double.isNaN(a[r]));
     }
 
-    private static void ofSingles() {
+    private static ColumnHouse singles() {
         ColumnHouse x = new ColumnHouse();
         x.table(0, ROWS);
         x.column(0, 5);
@@ -184,6 +193,11 @@ public final class RealsTest {
             x.put(0, 1, r, Float.floatToRawIntBits(g[r]) & 0xffffffffL);
             x.put(0, 2, r, n[r] / 8);
         }
+        return x;
+    }
+
+    private static void ofSingles() {
+        Supplier<ColumnHouse> x = RealsTest::singles;
         single(x, "a", r -> f[r]);
         single(x, "a + b", r -> f[r] + g[r]);
         single(x, "a - b", r -> f[r] - g[r]);
@@ -217,7 +231,7 @@ public final class RealsTest {
         flag(x, "missing(a)", r -> Float.isNaN(f[r]));
     }
 
-    private static void ofWholes() {
+    private static ColumnHouse wholes() {
         ColumnHouse x = new ColumnHouse();
         x.table(0, ROWS);
         x.column(0, 4);
@@ -230,6 +244,11 @@ public final class RealsTest {
             x.put(0, 2, r, Float.floatToRawIntBits(f[r]));
             x.put(0, 3, r, Double.doubleToRawLongBits(a[r]));
         }
+        return x;
+    }
+
+    private static void ofWholes() {
+        Supplier<ColumnHouse> x = RealsTest::wholes;
         single(x, "single(a)", r -> (float) v[r]);
         real(x, "real(a)", r -> (double) v[r]);
         single(x, "single(b)", r -> (float) n[r]);
