@@ -390,8 +390,8 @@ public final class EdgesOfElementsTest {
                 CHECKS.due("table " + t, x.cell(t, 0, 1), 0);
             }
         }
-        CHECKS.says("boxes: a WHOLE, a REAL's bits (likewise), a text's bytes, the first one highest of as many as it has; "
-                + "LISTS: how many numbers.");
+        CHECKS.says("boxes: a WHOLE, a REAL's bits (likewise), a text's bytes, the first one highest of as many as it "
+                + "has; LISTS: how many numbers.");
         ColumnHouse y = new ColumnHouse();
         y.table(0, 6);
         Checks.boxes(y, 0, 8, -5, -0.0, Double.NaN, "", "b", "abcdefgh");
@@ -409,8 +409,8 @@ public final class EdgesOfElementsTest {
     }
 
     private static void sorts() {
-        CHECKS.says("Of an element of boxes: 0 NOTHING, 1 a WHOLE's, 2 a REAL's, 3 a text's; of LISTS: 0 NOTHING, 4 a list; "
-                + "NONE for others, or when there is none such.");
+        CHECKS.says("Of an element of boxes: 0 NOTHING, 1 a WHOLE's, 2 a REAL's, 3 a text's; of LISTS: 0 NOTHING, 4 a "
+                + "list; NONE for others, or when there is none such.");
         ColumnHouse y = new ColumnHouse();
         y.table(0, 4);
         Checks.boxes(y, 0, 8, null, 0, 0.0, "");

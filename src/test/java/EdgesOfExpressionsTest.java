@@ -2,7 +2,8 @@
 public final class EdgesOfExpressionsTest {
     private static final Checks CHECKS = new Checks("EdgesOfExpressionsTest");
     private static final String[] MAKERS = {"tiny", "sign", "small", "whole", "long", "single", "real"};
-    private static final String[] SHAPERS = {"floor", "ceil", "rint", "signum", "sqrt", "ulp", "next", "round", "expo", "bits"};
+    private static final String[] SHAPERS = {"floor", "ceil", "rint", "signum", "sqrt", "ulp", "next", "round",
+            "expo", "bits"};
     private static final String[] RECKONERS = {"+", "-", "*", "/", "%"};
     private static final String[] ORDERS = {"<", "<=", ">", ">="};
 
@@ -85,7 +86,8 @@ public final class EdgesOfExpressionsTest {
             CHECKS.says("len: LISTS (NOTHING 1): a WHOLE. list(n): kinds 0 to 3: a list of n zeros");
             kind("len(a)", "len", k == 11 ? 3 : -4, k);
             kind("list(a)", "list", k <= 3 ? 11 : -4, k);
-            CHECKS.says("box: kinds 0 to 3: NUMBERS (9) of WHOLEs; 4 to 6: NUMBERS of REALs; boxes: the same; others: 4.");
+            CHECKS.says("box: kinds 0 to 3: NUMBERS (9) of WHOLEs; 4 to 6: NUMBERS of REALs; boxes: the same; others: "
+                    + "4.");
             kind("box(a)", "box", isBoxed(k) ? k : k <= 6 ? 9 : -4, k);
             CHECKS.says("prior(x): any kind:");
             kind("prior(a)", "prior", k, k);
@@ -102,8 +104,8 @@ public final class EdgesOfExpressionsTest {
         for (int k = 0; k <= 11; k++) {
             for (int m = 0; m <= 11; m++) {
                 boolean numbers = isNumber(k) && isNumber(m);
-                CHECKS.says("THE KIND of several together: REAL if one is REAL or BOXED, else SINGLE if one is, else LONG if one is, "
-                        + "else WHOLE; all are made that first.");
+                CHECKS.says("THE KIND of several together: REAL if one is REAL or BOXED, else SINGLE if one is, else "
+                        + "LONG if one is, else WHOLE; all are made that first.");
                 for (String sign : RECKONERS) {
                     kind("a " + sign + " b", sign, numbers ? together(k, m) : -4, k, m);
                 }
@@ -111,7 +113,8 @@ public final class EdgesOfExpressionsTest {
                 for (String sign : ORDERS) {
                     kind("a " + sign + " b", sign, numbers ? 7 : -4, k, m);
                 }
-                CHECKS.says("= #: both of kinds 0 to 6 (their kind together; a NaN is like nothing, 0 is like -0); both FLAGS; both LISTS");
+                CHECKS.says("= #: both of kinds 0 to 6 (their kind together; a NaN is like nothing, 0 is like -0); "
+                        + "both FLAGS; both LISTS");
                 boolean like = numbers || k == m;
                 kind("a = b", "=", like ? 7 : -4, k, m);
                 kind("a # b", "#", like ? 7 : -4, k, m);
@@ -138,8 +141,8 @@ public final class EdgesOfExpressionsTest {
     private static void kindsOfThree() {
         for (int k = 0; k <= 11; k++) {
             for (int m = 0; m <= 11; m++) {
-                CHECKS.says("y and z of one kind, or both of kinds 0 to 6 (their kind together), or both boxes (BOXES when their kinds "
-                        + "differ); others 4:");
+                CHECKS.says("y and z of one kind, or both of kinds 0 to 6 (their kind together), or both boxes (BOXES "
+                        + "when their kinds differ); others 4:");
                 int due = k == m ? k : k <= 6 && m <= 6 ? together(k, m) : isBoxed(k) && isBoxed(m) ? 8 : -4;
                 kind("if(a, b, c)", "if", due, 7, k, m);
                 if (k != 7) {
@@ -147,8 +150,8 @@ public final class EdgesOfExpressionsTest {
                 }
                 for (int n = 0; n <= 11; n++) {
                     boolean floating = isFloating(k) && isFloating(m) && isFloating(n);
-                    CHECKS.says("mad(x, y, z): x * y + z, as * and then + tell it, each one made of their kind together ahead: of SINGLE "
-                            + "and REAL, their kind together.");
+                    CHECKS.says("mad(x, y, z): x * y + z, as * and then + tell it, each one made of their kind "
+                            + "together ahead: of SINGLE and REAL, their kind together.");
                     kind("mad(a, b, c)", "mad", floating ? Math.max(k, Math.max(m, n)) : -4, k, m, n);
                     CHECKS.says("with(x, i, v): LISTS, kinds 0 to 3 twice:");
                     kind("with(a, b, c)", "with", k == 11 && m <= 3 && n <= 3 ? 11 : -4, k, m, n);
@@ -180,7 +183,7 @@ public final class EdgesOfExpressionsTest {
         CHECKS.fault(x, "from t0 let if(1 = 1, a, 1 / 0)", 6, 27, 0);
     }
 
-    /** What an expression takes over from's own price, of 3 rows; with one too little it ends with 8 at a part of it. */
+    /** What an expression takes over from's own price, of 3 rows; with one too little: 8 at a part of it. */
     private static void price(int price, String ex, String last, int kind, int... more) {
         int[] kinds = new int[more.length + 1];
         kinds[0] = kind;
@@ -199,8 +202,8 @@ public final class EdgesOfExpressionsTest {
     }
 
     private static void creditOfOperators() {
-        CHECKS.says("it takes CREDIT: one for each row (four when it gives kinds 8 to 11; if: by y; columns and safe take none): 8, row NONE, "
-                + "when there is not as much (nothing is taken then).");
+        CHECKS.says("it takes CREDIT: one for each row (four when it gives kinds 8 to 11; if: by y; columns and safe "
+                + "take none): 8, row NONE, when there is not as much (nothing is taken then).");
         for (int kind = 0; kind <= 11; kind++) {
             int each = kind >= 8 ? 12 : 3;
             price(0, "a", "a", kind);
@@ -261,7 +264,8 @@ public final class EdgesOfExpressionsTest {
     }
 
     private static void creditAheadOfKinds() {
-        CHECKS.says("8, row NONE, when there is not as much (nothing is taken then). Then 4, row NONE, when its operands' kinds can't be.");
+        CHECKS.says("8, row NONE, when there is not as much (nothing is taken then). Then 4, row NONE, when its "
+                + "operands' kinds can't be.");
         ColumnHouse x = of(3, 3, 7);
         Checks.spendTo(x, 6 + 3);
         CHECKS.fault(x, "from t0 let a + b", 4, 14, -1);
@@ -382,13 +386,12 @@ public final class EdgesOfExpressionsTest {
     }
 
     private static void boxesThatAreNoNumbers() {
-        CHECKS.says("NUMBERS below are kinds 0 to 6, and BOXED ones (8 to 10): a box of a number as a REAL; NOTHING in place of a box: 1, "
-                + "a text's: 4 (a NaN is a number here).");
-        String[] all = {"a + b", "b + a", "a - b", "b * a", "a / b", "b % a", "-a", "a < b", "b <= a", "a > b", "b >= a",
-            "tiny(a)", "sign(a)", "small(a)", "whole(a)", "long(a)", "single(a)", "real(a)"};
+        CHECKS.says("NUMBERS below are kinds 0 to 6, and BOXED ones (8 to 10): a box of a number as a REAL; NOTHING "
+                + "in place of a box: 1, a text's: 4 (a NaN is a number here).");
+        String[] all = {"a + b", "b + a", "a - b", "b * a", "a / b", "b % a", "-a", "a < b", "b <= a", "a > b",
+                "b >= a", "tiny(a)", "sign(a)", "small(a)", "whole(a)", "long(a)", "single(a)", "real(a)"};
         for (String ex : all) {
-            String operator = ex.replaceAll("[ab() ]*(tiny|sign|small|whole|long|single|real|<=|>=|[-+*/%<>])[ab() ]*", "$1");
-            int place = 12 + ex.indexOf(operator);
+            int place = 12 + (ex.charAt(1) == ' ' ? 2 : 0);
             CHECKS.fault(bad(8, null), "from t0 let " + ex, 1, place, 2);
             CHECKS.fault(bad(9, null), "from t0 let " + ex, 1, place, 2);
             CHECKS.fault(bad(8, "7"), "from t0 let " + ex, 4, place, 2);
@@ -424,11 +427,12 @@ public final class EdgesOfExpressionsTest {
     }
 
     private static void boxesInOrder() {
-        CHECKS.says("two BOXED ones row by row: NOTHING on the left 1, on the right 1, both texts by bytes, both numbers as REALs, else 4.");
-        Object[][] pairs = {{null, 1, -1}, {1, null, -1}, {null, null, -1}, {null, "t", -1}, {"t", null, -1}, {"t", 1, -4},
-            {1, "t", -4}, {"", 0, -4}, {Double.NaN, "t", -4}, {1, 2, 1}, {2, 1.5, 0}, {1, 1.0, 0}, {Double.NaN, 1, 0},
-            {1, Double.NaN, 0}, {"a", "b", 1}, {"a", "ab", 1}, {"", "a", 1}, {"b", "ab", 0}, {"a", "a", 0}, {-0.0, 0, 0},
-            {Integer.MIN_VALUE, Integer.MAX_VALUE, 1}};
+        CHECKS.says("two BOXED ones row by row: NOTHING on the left 1, on the right 1, both texts by bytes, both "
+                + "numbers as REALs, else 4.");
+        Object[][] pairs = {{null, 1, -1}, {1, null, -1}, {null, null, -1}, {null, "t", -1}, {"t", null, -1},
+                {"t", 1, -4}, {1, "t", -4}, {"", 0, -4}, {Double.NaN, "t", -4}, {1, 2, 1}, {2, 1.5, 0}, {1, 1.0, 0},
+                {Double.NaN, 1, 0}, {1, Double.NaN, 0}, {"a", "b", 1}, {"a", "ab", 1}, {"", "a", 1}, {"b", "ab", 0},
+                {"a", "a", 0}, {-0.0, 0, 0}, {Integer.MIN_VALUE, Integer.MAX_VALUE, 1}};
         for (Object[] pair : pairs) {
             ColumnHouse x = new ColumnHouse();
             x.table(0, 2);
@@ -475,8 +479,8 @@ public final class EdgesOfExpressionsTest {
     }
 
     private static void safeTakesUp() {
-        CHECKS.says("safe(x, y): x; if a FAULT other than 8 comes as x is worked out, it is taken up: 200 of CREDIT (it is not taken up "
-                + "with less), and y.");
+        CHECKS.says("safe(x, y): x; if a FAULT other than 8 comes as x is worked out, it is taken up: 200 of CREDIT "
+                + "(it is not taken up with less), and y.");
         ColumnHouse x = new ColumnHouse();
         x.table(0, 2);
         Checks.column(x, 0, 3, 5, 6);

@@ -166,8 +166,8 @@ public final class EdgesOfListsTest {
     }
 
     private static void operandsAheadOfPlaces() {
-        CHECKS.says("Then its operands from the left, each row by row: AWAY is 1 (at row 0, when there are rows), and what is told below of "
-                + "NOTHING and of boxes. Then what it tells itself, row by row.");
+        CHECKS.says("Then its operands from the left, each row by row: AWAY is 1 (at row 0, when there are rows), and "
+                + "what is told below of NOTHING and of boxes. Then what it tells itself, row by row.");
         ColumnHouse x = of(upTo(0), null);
         Checks.lists(x, 0, null, upTo(20));
         Checks.lists(x, 0, upTo(20), upTo(20));
@@ -292,7 +292,8 @@ public final class EdgesOfListsTest {
     }
 
     private static void runs() {
-        CHECKS.says("run(x): kinds 0 to 6: of row 0 x's, of others that and the sum ahead, of their kind (WHOLE at least).");
+        CHECKS.says("run(x): kinds 0 to 6: of row 0 x's, of others that and the sum ahead, of their kind (WHOLE at "
+                + "least).");
         long[][] wholes = {{127, 127, -128, 126}, {65535, 65535, 65535, 196605}, {32767, 32767, 32767, 98301}};
         for (int kind = 0; kind <= 2; kind++) {
             ColumnHouse x = new ColumnHouse();
@@ -306,7 +307,8 @@ public final class EdgesOfListsTest {
         Checks.column(x, 0, 3, MOST, 1, -1);
         Checks.column(x, 0, 4, Long.MAX_VALUE, 1, -1);
         Checks.column(x, 0, 5, 0x80000000L, 0x80000000L, 0);
-        Checks.column(x, 0, 5, Checks.single(Float.MAX_VALUE), Checks.single(Float.MAX_VALUE), Checks.single(-Float.MAX_VALUE));
+        Checks.column(x, 0, 5, Checks.single(Float.MAX_VALUE), Checks.single(Float.MAX_VALUE),
+                Checks.single(-Float.MAX_VALUE));
         Checks.column(x, 0, 6, Checks.real(0x1p53), Checks.real(1), Checks.real(1));
         Checks.column(x, 0, 6, 1, NAN, 1);
         Checks.column(x, 0, 5, Checks.single(0x1p24f), Checks.single(1), Checks.single(1));
@@ -317,7 +319,8 @@ public final class EdgesOfListsTest {
         CHECKS.gives(x, "from t0 let run(d)", 5, Checks.single(Float.MAX_VALUE), infinite, infinite);
         CHECKS.gives(x, "from t0 let run(e)", 6, Checks.real(0x1p53), Checks.real(0x1p53), Checks.real(0x1p53));
         CHECKS.gives(x, "from t0 let run(f)", 6, 1, NAN, NAN);
-        CHECKS.gives(x, "from t0 let run(g)", 5, Checks.single(0x1p24f), Checks.single(0x1p24f), Checks.single(0x1p24f));
+        CHECKS.gives(x, "from t0 let run(g)", 5, Checks.single(0x1p24f), Checks.single(0x1p24f),
+                Checks.single(0x1p24f));
         CHECKS.gives(x, "from t0 first 1 let run(c)", 5, LEAST);
         CHECKS.gives(x, "from t0 first 0 let run(a)", 3);
     }

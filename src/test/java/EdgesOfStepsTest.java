@@ -56,8 +56,9 @@ public final class EdgesOfStepsTest {
     }
 
     private static void nineFaults() {
-        CHECKS.says("FAULTS: 1 NOTHING, or AWAY, where something must be. 2 a place beyond. 3 a size below 0. 4 another kind than it must be. "
-                + "5 what doesn't go into such a column. 6 a whole number divided by 0. 7 no room. 8 no CREDIT. 9 a query that can't be read.");
+        CHECKS.says("FAULTS: 1 NOTHING, or AWAY, where something must be. 2 a place beyond. 3 a size below 0. 4 "
+                + "another kind than it must be. 5 what doesn't go into such a column. 6 a whole number divided by 0. "
+                + "7 no room. 8 no CREDIT. 9 a query that can't be read.");
         ColumnHouse x = house(8);
         x.table(1, 3);
         x.column(1, 3);
@@ -109,13 +110,14 @@ public final class EdgesOfStepsTest {
     }
 
     private static void resultAndTables() {
-        CHECKS.says("Behind the last step the WORKING TABLE is the RESULT (table 6); with a FAULT that stays as it was. "
-                + "What was changed by into and over stays.");
+        CHECKS.says("Behind the last step the WORKING TABLE is the RESULT (table 6); with a FAULT that stays as it "
+                + "was. What was changed by into and over stays.");
         ColumnHouse x = house(3);
         x.table(2, 3);
         Checks.column(x, 2, 3, 7, 8, 9);
         CHECKS.gives(x, "from t0 first 2 let b * 10", 3, 10, 20);
-        String[] faulty = {"from t0 first 1 let a / 0", "from t0 keep p", "from t0 into t1 where b", "from", "from t5 sort a"};
+        String[] faulty = {"from t0 first 1 let a / 0", "from t0 keep p", "from t0 into t1 where b", "from",
+                "from t5 sort a"};
         for (String query : faulty) {
             CHECKS.holds(query, Checks.ask(x, query) < 0);
             CHECKS.cells(x, "the RESULT stays behind " + query, 2, 10, 20);
@@ -139,8 +141,8 @@ public final class EdgesOfStepsTest {
     }
 
     private static void heldAlsoWithAFault() {
-        CHECKS.says("The table is HELD then; so is that of join, into, over, when its step begins; all are let go at the end, "
-                + "the latest first, also when the query ends with a FAULT.");
+        CHECKS.says("The table is HELD then; so is that of join, into, over, when its step begins; all are let go at "
+                + "the end, the latest first, also when the query ends with a FAULT.");
         ColumnHouse x = house(3);
         x.table(1, -1);
         x.table(2, 0);
@@ -176,9 +178,9 @@ public final class EdgesOfStepsTest {
     }
 
     private static void creditOfSteps() {
-        CHECKS.says("STEPS THAT MAKE COLUMNS (from, where, join, group, sort, first, into) take CREDIT for all these together, "
-                + "when their ROWS are known, ahead of making them: one for each ROW of each column, four of kinds 8 to 11: "
-                + "8 when there is not as much (nothing is taken then).");
+        CHECKS.says("STEPS THAT MAKE COLUMNS (from, where, join, group, sort, first, into) take CREDIT for all these "
+                + "together, when their ROWS are known, ahead of making them: one for each ROW of each column, four "
+                + "of kinds 8 to 11: 8 when there is not as much (nothing is taken then).");
         for (int kind = 0; kind <= 11; kind++) {
             int k = kind;
             int each = kind >= 8 ? 5 : 2;
@@ -238,8 +240,8 @@ public final class EdgesOfStepsTest {
     }
 
     private static void awayIsMissed() {
-        CHECKS.says("by where, join, group, sort, first it is moved row by row: 1 at the first column that is AWAY, if a row is moved "
-                + "(columns in their order); what is made is not AWAY.");
+        CHECKS.says("by where, join, group, sort, first it is moved row by row: 1 at the first column that is AWAY, "
+                + "if a row is moved (columns in their order); what is made is not AWAY.");
         ColumnHouse x = new ColumnHouse();
         x.table(0, 2);
         Checks.column(x, 0, 3, 5, 6);
@@ -253,7 +255,8 @@ public final class EdgesOfStepsTest {
         for (String step : moved) {
             CHECKS.fault(x, "from t0 " + step, 1, 8, -1);
         }
-        String[] none = {"where a = 9", "first 0", "first 0 sort a", "where a = 5 and a = 6", "where a > 6 join t1 on a = a"};
+        String[] none = {"where a = 9", "first 0", "first 0 sort a", "where a = 5 and a = 6",
+                "where a > 6 join t1 on a = a"};
         for (String step : none) {
             CHECKS.fine(x, "from t0 " + step, 0);
             CHECKS.due("what is made is not AWAY", x.kind(6, 1), 8);
@@ -340,7 +343,8 @@ public final class EdgesOfStepsTest {
     }
 
     private static void let() {
-        CHECKS.says("let: 7 if there are 16 (ahead of ex): ex is one column more (AWAY, if it is a column by itself that is).");
+        CHECKS.says("let: 7 if there are 16 (ahead of ex): ex is one column more (AWAY, if it is a column by itself "
+                + "that is).");
         ColumnHouse x = house(3);
         String fifteen = "from t0" + " let 1".repeat(13);
         CHECKS.fine(x, fifteen + " let b", 3);
@@ -380,8 +384,8 @@ public final class EdgesOfStepsTest {
     }
 
     private static void joinRefuses() {
-        CHECKS.says("join: the columns (2; the first of the WORKING TABLE, the second of the other one); 4 when = can't take both; "
-                + "7 when there would be more than 16;");
+        CHECKS.says("join: the columns (2; the first of the WORKING TABLE, the second of the other one); 4 when = "
+                + "can't take both; 7 when there would be more than 16;");
         ColumnHouse x = house(3);
         x.table(1, 1);
         for (int c = 0; c < 8; c++) {
@@ -411,7 +415,8 @@ public final class EdgesOfStepsTest {
 
     private static void joinKinds() {
         CHECKS.says("4 when = can't take both;");
-        CHECKS.says("= #: both of kinds 0 to 6 (their kind together; a NaN is like nothing, 0 is like -0); both FLAGS; both LISTS");
+        CHECKS.says("= #: both of kinds 0 to 6 (their kind together; a NaN is like nothing, 0 is like -0); both "
+                + "FLAGS; both LISTS");
         for (int one = 0; one <= 11; one++) {
             ColumnHouse x = new ColumnHouse();
             x.table(0, 0);
@@ -426,8 +431,8 @@ public final class EdgesOfStepsTest {
     }
 
     private static void joinPairs() {
-        CHECKS.says("then all pairs of a row of the WORKING TABLE and one of the other table, by the one, then the other, that are =: "
-                + "both rows' columns behind one another;");
+        CHECKS.says("then all pairs of a row of the WORKING TABLE and one of the other table, by the one, then the "
+                + "other, that are =: both rows' columns behind one another;");
         ColumnHouse x = new ColumnHouse();
         x.table(0, 4);
         Checks.column(x, 0, 3, 1, 2, 1, 3);
@@ -569,7 +574,8 @@ public final class EdgesOfStepsTest {
         ColumnHouse x = new ColumnHouse();
         x.table(0, 6);
         Checks.column(x, 0, 3, 3, 1, 3, 2, 1, 3);
-        Checks.column(x, 0, 5, Checks.single(Float.NaN), 0, Checks.single(Float.NaN), Checks.single(-0f), 1, 0xffffffffL);
+        Checks.column(x, 0, 5, Checks.single(Float.NaN), 0, Checks.single(Float.NaN), Checks.single(-0f), 1,
+                0xffffffffL);
         Checks.boxes(x, 0, 8, null, 0, "", null, 0.0, "");
         Checks.lists(x, 0, null, new int[0], null, new int[1], new int[0], new int[] {0});
         Checks.column(x, 0, 7, 1, 0, 0, 1, 1, 0);
@@ -687,8 +693,8 @@ public final class EdgesOfStepsTest {
     }
 
     private static void over() {
-        CHECKS.says("over: for each column of the WORKING TABLE, in order: the table's column of the same number (2 without one): "
-                + "COPY (PART 4) of all ROWS from 0 on to the place that is told;");
+        CHECKS.says("over: for each column of the WORKING TABLE, in order: the table's column of the same number (2 "
+                + "without one): COPY (PART 4) of all ROWS from 0 on to the place that is told;");
         ColumnHouse x = house(3);
         x.table(1, 5);
         Checks.column(x, 1, 3, 11, 12, 13, 14, 15);
@@ -777,8 +783,9 @@ public final class EdgesOfStepsTest {
     }
 
     private static void placesAndRows() {
-        CHECKS.says("A FAULT has a place (of a step: its first word; of what is in an ex: the operator's, function's, [ 's, constant's "
-                + "first byte; a column that there is not: 2, at its letter; a fold: its word) and a row (NONE where none is told).");
+        CHECKS.says("A FAULT has a place (of a step: its first word; of what is in an ex: the operator's, function's, "
+                + "[ 's, constant's first byte; a column that there is not: 2, at its letter; a fold: its word) and a "
+                + "row (NONE where none is told).");
         ColumnHouse x = house(11);
         CHECKS.fault(x, "from t0  where b", 4, 9, -1);
         CHECKS.fault(x, "from t0 let b  /  0", 6, 15, 0);

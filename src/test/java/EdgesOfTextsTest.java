@@ -3,8 +3,8 @@ public final class EdgesOfTextsTest {
     private static final Checks CHECKS = new Checks("EdgesOfTextsTest");
     private static final int LEAST = Integer.MIN_VALUE;
     private static final int MOST = Integer.MAX_VALUE;
-    private static final String ONES = "tiny sign small whole long single real abs floor ceil rint round signum sqrt ulp "
-            + "next expo bits from missing len list box prior run";
+    private static final String ONES = "tiny sign small whole long single real abs floor ceil rint round signum sqrt "
+            + "ulp next expo bits from missing len list box prior run";
     private static final String TWOS = "max min copy scalb cat safe";
     private static final String THREES = "mad if with";
 
@@ -112,8 +112,8 @@ public final class EdgesOfTextsTest {
     }
 
     private static void asking() {
-        CHECKS.says("The first n bytes of the tape (which is empty then) are done as a query: how many ROWS the RESULT has; "
-                + "less the FAULT by which it ended.");
+        CHECKS.says("The first n bytes of the tape (which is empty then) are done as a query: how many ROWS the "
+                + "RESULT has; less the FAULT by which it ended.");
         ColumnHouse x = house();
         Checks.feed(x, "from t0 first 1 !!!!");
         CHECKS.due("the first 7", x.ask(7), 2);
@@ -247,10 +247,10 @@ public final class EdgesOfTextsTest {
     }
 
     private static void reals() {
-        CHECKS.says("1 to 6 digits, a point, 1 to 3 digits (a REAL: the digits as a whole number, divided by 10, 100 or 1000), "
-                + "and f behind it (made a SINGLE)");
-        String[] good = {"0.0", "0.1", "0.01", "0.001", "9.9", "999999.9", "999999.99", "999999.999", "000001.100", "0.7",
-            "123456.789", "0.3"};
+        CHECKS.says("1 to 6 digits, a point, 1 to 3 digits (a REAL: the digits as a whole number, divided by 10, 100 "
+                + "or 1000), and f behind it (made a SINGLE)");
+        String[] good = {"0.0", "0.1", "0.01", "0.001", "9.9", "999999.9", "999999.99", "999999.999", "000001.100",
+                "0.7", "123456.789", "0.3"};
         for (String number : good) {
             ColumnHouse x = house();
             long real = Checks.real(Double.parseDouble(number));
@@ -280,7 +280,8 @@ public final class EdgesOfTextsTest {
     private static void texts() {
         CHECKS.says("TEXTS: ', 0 to 8 bytes but ', '");
         ColumnHouse x = house();
-        for (String text : new String[] {"", "a", "ab", "1234567", "12345678", " ", "        ", "~!\"#$%&(", "from t0"}) {
+        String[] good = {"", "a", "ab", "1234567", "12345678", " ", "        ", "~!\"#$%&(", "from t0"};
+        for (String text : good) {
             CHECKS.gives(x, "from t0 let '" + text + "'", 10, Checks.text(text), Checks.text(text));
             CHECKS.due("a text's", x.sort(6, 3, 0), 3);
         }
@@ -308,8 +309,8 @@ public final class EdgesOfTextsTest {
         }
         CHECKS.gives(x, "from t0 let c[(0)]", 3, 0, 0);
         CHECKS.gives(x, "from t0 group a,b:count", 3, 1, 1);
-        for (String sign : new String[] {"==", "!=", "<>", "&", "|", "!", "^", "~", "?", ";", ".", "\"", "@", "$", "{", "}",
-            "\\", "_", "`", "A"}) {
+        for (String sign : new String[] {"==", "!=", "<>", "&", "|", "!", "^", "~", "?", ";", ".", "\"", "@", "$",
+                "{", "}", "\\", "_", "`", "A"}) {
             readable("from t0 let a = a");
             ColumnHouse y = house();
             CHECKS.due("from t0 let a " + sign + " a", Checks.ask(y, "from t0 let a " + sign + " a"), -9);
@@ -344,17 +345,19 @@ public final class EdgesOfTextsTest {
      * byte doesn't begin can stand.
      */
     private static void queriesCutOff() {
-        CHECKS.says("step = \"where\" ex | \"let\" ex | \"keep\" column {\",\" column} | \"join\" table \"on\" column \"=\" column | "
-                + "\"group\" [column {\",\" column}] \":\" fold {\",\" fold} | \"sort\" column [\"down\"] | \"first\" number | "
-                + "\"into\" table | \"over\" table \"at\" number.");
+        CHECKS.says("step = \"where\" ex | \"let\" ex | \"keep\" column {\",\" column} | \"join\" table \"on\" column "
+                + "\"=\" column | \"group\" [column {\",\" column}] \":\" fold {\",\" fold} | \"sort\" column "
+                + "[\"down\"] | \"first\" number | \"into\" table | \"over\" table \"at\" number.");
         CHECKS.says("The first token that can't stand there (the text's end, too; a byte that begins none;");
         String[] all = {
             "from t0. where b.", "from t0. let a. + 1. - a. * 2. / 3. % 4.", "from t0. keep a. , b. , c.",
-            "from t0. join t1 on a = a.", "from t0. group : count.", "from t0. group a , b : sum ( a ). , max ( a ).",
+            "from t0. join t1 on a = a.", "from t0. group : count.",
+            "from t0. group a , b : sum ( a ). , max ( a ).",
             "from t0. group : min ( a ). , last ( c ). , any ( b ). , count.", "from t0. sort a. down.",
-            "from t0. first 1.", "from t0. into t1.", "from t0. over t1 at 0.", "from t0. let b. or b. and b.",
-            "from t0. let not not b.", "from t0. let - - a.", "from t0. let a. = a. and a. # a.", "from t0. let a. < a.",
-            "from t0. let a. <= a.", "from t0. let a. > a.", "from t0. let a. >= a.", "from t0. let c. [ 0 ].",
+            "from t0. first 1.", "from t0. into t1.", "from t0. over t1 at 0.",
+            "from t0. let b. or b. and b.", "from t0. let not not b.", "from t0. let - - a.",
+            "from t0. let a. = a. and a. # a.", "from t0. let a. < a.", "from t0. let a. <= a.",
+            "from t0. let a. > a.", "from t0. let a. >= a.", "from t0. let c. [ 0 ].",
             "from t0. let nil. let row. let 'x'. let 1l. let 1.5. let 1.5f.", "from t0. let ( ( a ) ).",
             "from t0. let abs ( a ).", "from t0. let max ( a , a ).", "from t0. let if ( b , a , a ).",
             "from t0. let safe ( a , a ).", "from t0. where b. sort a. first 1. keep a."};
@@ -378,24 +381,27 @@ public final class EdgesOfTextsTest {
 
     private static void tokensThatCanNotStandThere() {
         CHECKS.says("fold = \"count\" | (\"sum\" | \"max\" | \"min\" | \"last\" | \"any\") \"(\" ex \")\".");
-        CHECKS.says("one = NUMBER | TEXT | \"nil\" | \"row\" | column | FUNCTION \"(\" ex {\",\" ex} \")\" | \"(\" ex \")\".");
+        CHECKS.says("one = NUMBER | TEXT | \"nil\" | \"row\" | column | FUNCTION \"(\" ex {\",\" ex} \")\" | \"(\" ex "
+                + "\")\".");
         CHECKS.says("The first token that can't stand there");
         String[] all = {"@where b", "from @from t0", "from t0 @b", "from t0 @from t0", "from t0 @on", "from t0 @at",
-            "from t0 @down", "from t0 @1", "from t0 @(", "from t0 @count", "from t0 let a @a", "from t0 let a @1",
-            "from t0 let a @(a)", "from t0 let a @not b", "from t0 let @+ a", "from t0 let @* a", "from t0 let @= a",
-            "from t0 let @)", "from t0 let (@)", "from t0 let (a@]", "from t0 let c[0@)", "from t0 let c[@]",
-            "from t0 let a@)", "from t0 let a@]", "from t0 let a@,", "from t0 let a = a @= a", "from t0 let a < a @< a",
-            "from t0 let a = @not b", "from t0 let - @not b", "from t0 let a + @not b", "from t0 keep @, a",
-            "from t0 keep a, @, a", "from t0 keep a @b", "from t0 keep @1", "from t0 keep @:", "from t0 join @on a = a",
-            "from t0 join t1 @a = a", "from t0 join t1 on @1 = a", "from t0 join t1 on a @# a", "from t0 join t1 on a @<= a",
-            "from t0 join t1 on a = @1", "from t0 group a @count", "from t0 group a, @: count", "from t0 group : @: count",
-            "from t0 group a @b", "from t0 group : @a", "from t0 group : @row", "from t0 group : @abs(a)",
-            "from t0 group : count@(a)", "from t0 group : sum @a", "from t0 group : sum(@)", "from t0 group : sum(a@, a)",
-            "from t0 group : sum(a), @sort a", "from t0 sort @down", "from t0 sort a @up", "from t0 sort a down @down",
-            "from t0 sort a@, b", "from t0 sort @-a", "from t0 first @a", "from t0 into t1 @at 0", "from t0 over t1 @0",
-            "from t0 over t1 @on 0", "from t0 let @sum(a)", "from t0 let @count", "from t0 let abs @a", "from t0 let abs@[a",
-            "from t0 let row@(a)", "from t0 let nil@(a)", "from t0 where @where b",
-            "from t0 let a and @or b", "from t0 let not @and b", "from t0 let @t", "from t0 let @t0"};
+                "from t0 @down", "from t0 @1", "from t0 @(", "from t0 @count", "from t0 let a @a", "from t0 let a @1",
+                "from t0 let a @(a)", "from t0 let a @not b", "from t0 let @+ a", "from t0 let @* a",
+                "from t0 let @= a", "from t0 let @)", "from t0 let (@)", "from t0 let (a@]", "from t0 let c[0@)",
+                "from t0 let c[@]", "from t0 let a@)", "from t0 let a@]", "from t0 let a@,", "from t0 let a = a @= a",
+                "from t0 let a < a @< a", "from t0 let a = @not b", "from t0 let - @not b", "from t0 let a + @not b",
+                "from t0 keep @, a", "from t0 keep a, @, a", "from t0 keep a @b", "from t0 keep @1",
+                "from t0 keep @:", "from t0 join @on a = a", "from t0 join t1 @a = a", "from t0 join t1 on @1 = a",
+                "from t0 join t1 on a @# a", "from t0 join t1 on a @<= a", "from t0 join t1 on a = @1",
+                "from t0 group a @count", "from t0 group a, @: count", "from t0 group : @: count",
+                "from t0 group a @b", "from t0 group : @a", "from t0 group : @row", "from t0 group : @abs(a)",
+                "from t0 group : count@(a)", "from t0 group : sum @a", "from t0 group : sum(@)",
+                "from t0 group : sum(a@, a)", "from t0 group : sum(a), @sort a", "from t0 sort @down",
+                "from t0 sort a @up", "from t0 sort a down @down", "from t0 sort a@, b", "from t0 sort @-a",
+                "from t0 first @a", "from t0 into t1 @at 0", "from t0 over t1 @0", "from t0 over t1 @on 0",
+                "from t0 let @sum(a)", "from t0 let @count", "from t0 let abs @a", "from t0 let abs@[a",
+                "from t0 let row@(a)", "from t0 let nil@(a)", "from t0 where @where b", "from t0 let a and @or b",
+                "from t0 let not @and b", "from t0 let @t", "from t0 let @t0"};
         for (String marked : all) {
             unreadable(marked.replace("@", ""), marked.indexOf('@'));
         }
@@ -407,7 +413,8 @@ public final class EdgesOfTextsTest {
         readable("from t0" + " first 1".repeat(36));
         unreadable("", 0);
         unreadable("t0", 0);
-        CHECKS.says("not = {\"not\"} compared.  compared = sum [(\"=\" | \"#\" | \"<\" | \"<=\" | \">\" | \">=\") sum].");
+        CHECKS.says("not = {\"not\"} compared.  compared = sum [(\"=\" | \"#\" | \"<\" | \"<=\" | \">\" | \">=\") "
+                + "sum].");
         ColumnHouse x = house();
         CHECKS.gives(x, "from t0 let not a = 5", 7, 0, 1);
         CHECKS.gives(x, "from t0 let (a = 5) = b", 7, 1, 1);
@@ -425,8 +432,9 @@ public final class EdgesOfTextsTest {
     }
 
     private static void functions() {
-        CHECKS.says("FUNCTIONS of one: tiny sign small whole long single real abs floor ceil rint round signum sqrt ulp next expo "
-                + "bits from missing len list box prior run; of two: max min copy scalb cat safe; of three: mad if with.");
+        CHECKS.says("FUNCTIONS of one: tiny sign small whole long single real abs floor ceil rint round signum sqrt "
+                + "ulp next expo bits from missing len list box prior run; of two: max min copy scalb cat safe; of "
+                + "three: mad if with.");
         CHECKS.says("a number of them that is wrong, at the token by which it is;");
         String[] names = {ONES, TWOS, THREES};
         for (int most = 1; most <= 3; most++) {
@@ -461,7 +469,8 @@ public final class EdgesOfTextsTest {
             nested("from t0 let ", "(c[", n / 2, n % 2 == 0 ? "0" + "])".repeat(n / 2) : "(0)" + "])".repeat(n / 2));
         }
         readable("from t0 let " + "(a)+".repeat(30) + "(a)");
-        readable("from t0 let " + "(".repeat(20) + "a" + ")".repeat(20) + " let " + "(".repeat(20) + "a" + ")".repeat(20));
+        String deepest = " let " + "(".repeat(20) + "a" + ")".repeat(20);
+        readable("from t0" + deepest + deepest);
         readable("from t0 let " + "(".repeat(20) + "a" + ")".repeat(20) + "+c[0]");
         unreadable("from t0 let " + "(".repeat(20) + "c[0]" + ")".repeat(20), 33);
         unreadable("from t0 let " + "(".repeat(20) + "abs(a)" + ")".repeat(20), 35);
@@ -558,8 +567,8 @@ public final class EdgesOfTextsTest {
     }
 
     private static void holding() {
-        CHECKS.says("What was held and let go in the latest ask() that was not -10, in order (nothing behind FAULT 9): 2 * table, "
-                + "and 1 more when it was let go; NONE when there is no i-th.");
+        CHECKS.says("What was held and let go in the latest ask() that was not -10, in order (nothing behind FAULT "
+                + "9): 2 * table, and 1 more when it was let go; NONE when there is no i-th.");
         ColumnHouse x = house();
         for (int i : new int[] {-1, 0, 1, LEAST, MOST}) {
             CHECKS.due("ahead of any held(" + i + ")", x.held(i), -1);
