@@ -187,6 +187,10 @@ public final class EdgesOfNumbersTest {
         gives(0.0, "a / b", TINIEST, 2);
         gives(-0.0, "a / b", -TINIEST, 2);
         gives(NORMAL - TINIEST, "a - b", NORMAL, TINIEST);
+        gives(0x1p53, "a + b", 0x1p53 - 1, 2.0);
+        gives(0x1p53 + 2, "a + b", 0x1p53 - 1, Math.nextUp(2.0));
+        gives(0x1p53, "a + b", 0x1p53 - 1, Math.nextDown(2.0));
+        gives(-0x1p53 - 2, "a - b", 1 - 0x1p53, Math.nextUp(2.0));
     }
 
     private static void singlesReckoned() {

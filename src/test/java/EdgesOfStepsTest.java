@@ -521,6 +521,7 @@ public final class EdgesOfStepsTest {
         CHECKS.fault(one, "from t0 join t1 on a = a", 1, 8, -1);
         CHECKS.fault(one, "from t1 join t0 on a = a", 1, 8, -1);
         CHECKS.fine(one, "from t0 join t0 on a = a", 1);
+        CHECKS.fine(one, "from t0 first 0 join t1 on a = a", 0);
         x.table(2, 0);
         x.column(2, 3);
         x.away(2, 0, true);
