@@ -24,10 +24,28 @@ final class Checks {
         }
     }
 
-    /** What the document says of the answers that follow. */
-    void says(String sentence) {
-        this.sentence = sentence;
-        holds("it is quoted from the document", DOCUMENT.isEmpty() || DOCUMENT.contains(sentence));
+    /** What the document says of the answers that follow: one sentence, or several that bear on them. */
+    void says(String... sentences) {
+        sentence = String.join(" .. ", sentences);
+        for (String one : sentences) {
+            holds("it is quoted from the document", DOCUMENT.isEmpty() || DOCUMENT.contains(one));
+        }
+    }
+
+    /** What lies in a column: as cell() tells it, row by row, up to the end of the column. */
+    void lies(ColumnHouse x, int table, int column, long... want) {
+        due("rows of table " + table, x.size(table, 0), want.length);
+        for (int r = 0; r < want.length; r++) {
+            due("cell(" + table + ", " + column + ", " + r + ")", x.cell(table, column, r), want[r]);
+        }
+    }
+
+    /** What was held and let go in the latest query. */
+    void heldAre(ColumnHouse x, int... want) {
+        for (int i = 0; i < want.length; i++) {
+            due("held(" + i + ")", x.held(i), want[i]);
+        }
+        due("held(" + want.length + ")", x.held(want.length), -1);
     }
 
     void due(String call, long got, long want) {

@@ -99,7 +99,8 @@ public final class EdgesOfElementsTest {
     }
 
     private static void flags() {
-        CHECKS.says("a FLAG: whether v is not 0");
+        CHECKS.says("a FLAG: whether v is not 0",
+                "a FLAG 1, 0;");
         put(7, 1, 1, 0, 0, -1, 1, 2, 1, 256, 1, 1L << 32, 1, Long.MIN_VALUE, 1, 0, 0);
     }
 
@@ -195,7 +196,8 @@ public final class EdgesOfElementsTest {
     }
 
     private static void boxes() {
-        CHECKS.says("sort 0 NOTHING, 1 of a WHOLE (v's lowest 32 bits), 2 of a REAL (these bits)");
+        CHECKS.says("A box comes into boxes: sort 0 NOTHING, 1 of a WHOLE (v's lowest 32 bits), 2 of a REAL (these "
+                + "bits)");
         box(0, 0, 0);
         box(0, 7, 0);
         box(1, 0, 0);

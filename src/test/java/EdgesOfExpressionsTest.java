@@ -69,7 +69,7 @@ public final class EdgesOfExpressionsTest {
             for (int m = 0; m < 7; m++) {
                 kind(MAKERS[m] + "(a)", MAKERS[m], isNumber(k) || k == 7 ? m : -4, k);
             }
-            CHECKS.says("Others: 4.");
+            CHECKS.says("of what is infinite or NaN 128, 1024): of SINGLE and REAL.", "Others: 4.");
             for (String name : SHAPERS) {
                 boolean whole = name.equals("round") || name.equals("bits");
                 int due = whole ? k - 2 : name.equals("expo") ? 3 : k;
@@ -161,7 +161,8 @@ public final class EdgesOfExpressionsTest {
     }
 
     private static void operandsFromTheLeft() {
-        CHECKS.says("operands from the left, then the operator:");
+        CHECKS.says("EXPRESSIONS: each of their parts is worked out for all rows at once: operands from the left, then "
+                + "the operator:");
         ColumnHouse x = new ColumnHouse();
         x.table(0, 3);
         Checks.column(x, 0, 3, 1, 2, 3);

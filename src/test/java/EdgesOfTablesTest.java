@@ -11,6 +11,8 @@ public final class EdgesOfTablesTest {
         aNewTableIsWithoutColumns();
         columnsThatThereAre();
         kindsThatThereAre();
+        kindsByTheirNumbers();
+        asManyElementsAsRows();
         elementsOfANewColumn();
         priceOfAColumn();
         orderOfRefusals();
@@ -130,8 +132,50 @@ public final class EdgesOfTablesTest {
         }
     }
 
+    private static void kindsByTheirNumbers() {
+        CHECKS.says("5 SINGLE, 6 REAL (floating numbers of 32 and 64 bits as IEEE 754 has them, a NaN being NOTHING); "
+                + "7 FLAG; 8 BOXES, 9 NUMBERS, 10 TEXTS, whose elements are boxes:");
+        ColumnHouse x = new ColumnHouse();
+        x.table(0, 1);
+        Checks.column(x, 0, 0, -2);
+        String[] made = {"tiny(a)", "sign(a)", "small(a)", "whole(a)", "long(a)", "single(a)", "real(a)", "a = a",
+            "nil", "box(a)", "'-2'", "list(0)"};
+        long[] cells = {-2, 65534, -2, -2, -2, Checks.single(-2), Checks.real(-2), 1, 0, -2, Checks.text("-2"), 0};
+        int[] sorts = {-1, -1, -1, -1, -1, -1, -1, -1, 0, 1, 3, 4};
+        for (int kind = 0; kind < made.length; kind++) {
+            CHECKS.gives(x, "from t0 let " + made[kind] + " into t1", kind, cells[kind]);
+            CHECKS.due(made[kind] + ": sort", x.sort(6, 1, 0), sorts[kind]);
+            x.table(2, 1);
+            x.column(2, kind);
+            CHECKS.due("the column has the kind of what is made", x.copy(1, 1, 0, 2, 0, 0, 1), 1);
+            CHECKS.due(made[kind] + ": cell", x.cell(2, 0, 0), cells[kind]);
+        }
+        CHECKS.gives(x, "from t0 let long(1.0) let single(0.1) let bits(c)", 3, Float.floatToIntBits(0.1f));
+        CHECKS.gives(x, "from t0 let bits(0.1)", 4, Double.doubleToLongBits(0.1));
+    }
+
+    private static void asManyElementsAsRows() {
+        CHECKS.says("TABLES 0 to 5 have ROWS (-60 to 60, told when the table is made) and at most 8 COLUMNS (0 to 7), "
+                + "each of as many ELEMENTS of one KIND:");
+        for (int kind = 0; kind <= 11; kind++) {
+            ColumnHouse x = new ColumnHouse();
+            boolean boxed = kind >= 8 && kind <= 10;
+            for (int rows : new int[] {0, 1, 2, 59, 60}) {
+                x.table(5, rows);
+                x.column(5, kind);
+                for (int row : new int[] {-1, 0, 1, 2, 58, 59, 60, 61}) {
+                    int due = row >= 0 && row < rows ? 1 : -2;
+                    int got = boxed ? x.box(5, 0, row, 0, 0) : x.put(5, 0, row, 1);
+                    CHECKS.due("kind " + kind + ", row " + row + " of " + rows, got, due);
+                    CHECKS.due("its cell", x.cell(5, 0, row), due == 1 && !boxed ? 1 : 0);
+                }
+            }
+        }
+    }
+
     private static void elementsOfANewColumn() {
-        CHECKS.says("all its elements are 0 (FLAGS false, boxes and LISTS NOTHING)");
+        CHECKS.says("A column more, of a kind: its number; all its elements are 0 (FLAGS false, boxes and LISTS "
+                + "NOTHING).");
         for (int kind = 0; kind <= 11; kind++) {
             ColumnHouse x = new ColumnHouse();
             x.table(0, 60);
@@ -305,7 +349,7 @@ public final class EdgesOfTablesTest {
 
     /** The dearest calls that there are room for: 31 queries of 300 bytes, with what is fed for them. */
     private static void fiveHundredAndTwelveCalls() {
-        CHECKS.says("An object is used for at most 512 calls after it has been made;");
+        CHECKS.says("An object is used for at most 512 calls after it has been made; what later calls answer is free.");
         ColumnHouse x = new ColumnHouse();
         x.table(0, 60);
         for (int c = 0; c < 8; c++) {

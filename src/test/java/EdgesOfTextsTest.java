@@ -209,7 +209,7 @@ public final class EdgesOfTextsTest {
     }
 
     private static void wholes() {
-        CHECKS.says("1 to 9 digits (a WHOLE)");
+        CHECKS.says("NUMBERS: 1 to 9 digits (a WHOLE);");
         ColumnHouse x = house();
         CHECKS.gives(x, "from t0 let 0", 3, 0, 0);
         CHECKS.gives(x, "from t0 let 9", 3, 9, 9);
